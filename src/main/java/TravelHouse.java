@@ -2303,7 +2303,9 @@ public final class TravelHouse {
         int add(int newSort, int length) {
             int from = start[count];
             sort[count] = newSort;
-            Arrays.fill(cells, from, from + length, 0);
+            for (int k = from; k < from + length; k++) {
+                cells[k] = 0;
+            }
             count++;
             start[count] = from + length;
             return count;
@@ -2464,7 +2466,11 @@ public final class TravelHouse {
         }
 
         int firstLacking() {
-            return Long.numberOfTrailingZeros(~parts);
+            int k = 0;
+            while (k < partsOf(size) && (parts >> k & 1) == 1) {
+                k++;
+            }
+            return k;
         }
 
         void takePart(int k, byte[] from, int start, int length) {
@@ -2497,7 +2503,9 @@ public final class TravelHouse {
             method[frames] = newMethod;
             place[frames] = code.methodFirst[newMethod];
             base[frames] = newBase;
-            Arrays.fill(values, newBase + given, newBase + slots, 0);
+            for (int k = newBase + given; k < newBase + slots; k++) {
+                values[k] = 0;
+            }
             top = newBase + slots;
             frames++;
         }
@@ -2513,7 +2521,10 @@ public final class TravelHouse {
 
         int typeOf(Program code, int frame, int k) {
             int slots = code.methodSlots[method[frame]];
-            return k < slots ? code.slotType[method[frame] * Program.SLOTS + k] : code.typeAt(standing(frame), k - slots);
+            if (k < slots) {
+                return code.slotType[method[frame] * Program.SLOTS + k];
+            }
+            return code.typeAt(standing(frame), k - slots);
         }
 
         void push(int v) {
@@ -2757,7 +2768,7 @@ public final class TravelHouse {
         }
     }
 
-    /** MESSAGES from one host to another, in a ring: of each its sort, its traveller and its numbers; PARTS have bytes. */
+    /** MESSAGES from one host to another, in a ring: of each its sort, its traveller, its numbers, and a PART's bytes. */
     private static final class Line {
         static final int MOST = 40;
         static final int WIDTH = 10;
@@ -2820,7 +2831,8 @@ public final class TravelHouse {
 
         private void copyOldest(int to) {
             System.arraycopy(numbers, oldest * WIDTH, numbers, to * WIDTH, WIDTH);
-            System.arraycopy(bytes, oldest * Traveller.PART_BYTES, bytes, to * Traveller.PART_BYTES, Traveller.PART_BYTES);
+            int width = Traveller.PART_BYTES;
+            System.arraycopy(bytes, oldest * width, bytes, to * width, width);
             lengths[to] = lengths[oldest];
             sums[to] = sums[oldest];
         }
@@ -2855,7 +2867,8 @@ public final class TravelHouse {
         static long sumOf(byte[] row, int from, int to) {
             long sum = 0;
             for (int i = from; i < to; i++) {
-                sum = Long.rotateLeft(sum ^ (row[i] & 255), 11) * FACTOR;
+                long mixed = sum ^ (row[i] & 255);
+                sum = (mixed << 11 | mixed >>> 53) * FACTOR;
             }
             return sum;
         }

@@ -39,6 +39,9 @@ public final class RandomTest {
             spoiltBytes(b, i);
         }
         sameWithoutTrouble(b);
+        for (int i = 0; i < TEXTS.length; i++) {
+            heights(b, i);
+        }
         b.end();
     }
 
@@ -292,6 +295,31 @@ public final class RandomTest {
             other.x.value(0, 1, 0, i);
         }
         b.due("it runs", other.x.traveller(0, 1, 0) >= 0, true);
+    }
+
+    /** Step by step: the stack is as high as the code says, of frames beneath without what CALL took and answers. */
+    private static void heights(Bench b, int round) {
+        prepare(b, round);
+        for (int i = 0; i < 3000; i++) {
+            b.step(0, 1);
+            for (int t = 0; t < 2; t++) {
+                int frames = b.x.traveller(t, 0, 0) == 0 ? b.x.traveller(t, 0, 5) : 0;
+                for (int f = 0; f < frames; f++) {
+                    int place = b.x.frame(t, 0, f, 1);
+                    int want = f == frames - 1 ? b.x.instruction(0, place, 4) : b.x.instruction(0, place, 4) - 1;
+                    b.due("height", b.x.frame(t, 0, f, 3), want);
+                    b.due("slots", b.x.frame(t, 0, f, 2), b.x.method(0, b.x.frame(t, 0, f, 0), 2));
+                }
+            }
+            if (i % 50 == 49) {
+                for (int h = 0; h < 5; h++) {
+                    for (int g = 0; g < 5; g++) {
+                        b.settle(h, g);
+                    }
+                    b.x.step(h, h == 0 ? 0 : 500);
+                }
+            }
+        }
     }
 
     /** With or without a move in its midst, with or without a fall. */
