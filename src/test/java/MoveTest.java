@@ -25,6 +25,10 @@ public final class MoveTest {
         tooLarge(b);
         manyGivenUp(b);
         messages(b);
+        movedParts(b);
+        exactSizes(b);
+        comingOverAFall(b);
+        laterMoves(b);
         b.end();
     }
 
@@ -672,5 +676,144 @@ public final class MoveTest {
         b.due("what -1", b.x.message(0, 1, 0, -1), -1);
         b.due("what 1", b.x.message(0, 1, 0, 1), 0);
         b.due("from 1 to 0", b.x.message(1, 0, 0, 0), -1);
+    }
+
+    /** A PART that was doubled, or went behind all, is as good as it was. */
+    private static void movedParts(Bench b) {
+        for (int how = 1; how <= 2; how++) {
+            atGo(b, GO);
+            b.x.pass(0, 1);
+            b.x.pass(1, 0);
+            b.x.trouble(0, 1, how);
+            if (how == 1) {
+                b.x.trouble(0, 1, 0);
+            }
+            b.passAll(0, 1);
+            b.due("whole without a second READY", b.x.traveller(0, 1, 0), 5);
+        }
+        // the doubled one is spoilt by itself
+        atGo(b, GO);
+        b.x.pass(0, 1);
+        b.x.pass(1, 0);
+        b.x.trouble(0, 1, 3);
+        b.x.trouble(0, 1, 1);
+        b.x.trouble(0, 1, 3);
+        b.passAll(0, 1);
+        b.due("whole by the first one", b.x.traveller(0, 1, 0), 5);
+    }
+
+    /** Some sizes at the edges: 2,000 bytes, and parts that are all full. */
+    private static void exactSizes(Bench b) {
+        int full = 0;
+        boolean most = false;
+        boolean tooMany = false;
+        int[] widths = {1, 100, 10000, 2000000};
+        for (int k = 0; k < 40; k++) {
+            b.begin("class C{int[] r;int[] q;int[] s;int m(int n,int a,int b,int c){if(n>0)return m(n-1,a,b,c);"
+                + "try{go 1;}catch(e){return e;}return 7;}}"
+                + "main{C c=new C;c.r=new int[98];c.q=new int[98];c.s=new int[98];int i=0;int z=2147483647;"
+                + "while(i<98){c.r[i]=z;c.q[i]=-z;c.s[i]=z;i=i+1;}i=0;while(i<59){if(i<" + (50 + k / 4) + ")print z;else print 1;i=i+1;}"
+                + "print " + widths[k % 4] + ";return c.m(9,z,z,z);}");
+            while (b.x.instruction(0, b.x.frame(0, 0, b.x.traveller(0, 0, 5) - 1, 1), 0) != 23) {
+                b.step(0, b.x.traveller(0, 0, 5) == 1 && b.x.traveller(0, 0, 1) < 2000 ? 50 : 1);
+            }
+            // without the E, which has a byte
+            int size = b.x.pack(0, 0) - 1;
+            b.step(0, 1);
+            b.due("goes with " + size, b.x.traveller(0, 0, 0), size <= 2000 ? 1 : 0);
+            b.due("moves", b.x.traveller(0, 0, 2), size <= 2000 ? 1 : 0);
+            most = most || size == 2000;
+            tooMany = tooMany || size == 2001;
+        }
+        b.due("sizes on both sides", most && tooMany, true);
+        for (int k = 0; k < 60; k++) {
+            b.begin("main{int i=0;while(i<" + (10 + k) + "){print 1;i=i+1;}go 1;}");
+            b.step(0, 500);
+            b.step(0, 500);
+            int size = b.x.pack(0, 0);
+            b.x.pass(0, 1);
+            b.x.pass(1, 0);
+            b.due("parts", b.x.count(3), (size + 47) / 48);
+            b.passAll(0, 1);
+            b.due("whole", b.x.traveller(0, 1, 0), 5);
+            full += size % 48 == 0 ? 1 : 0;
+        }
+        b.due("some were full", full > 0, true);
+    }
+
+    /** What is put by of one that is COMING is its own, whatever becomes of the others' places. */
+    private static void comingOverAFall(Bench b) {
+        b.begin("main{int[] r=new int[100];int[] q=new int[100];int i=0;while(i<100){r[i]=2147483647-i;q[i]=i-2147483647;i=i+1;}"
+            + "if(self==1)go 2;else go 1;return r[99]+q[98];}");
+        b.start(0, 1);
+        for (int i = 0; i < 10; i++) {
+            b.step(0, 500);
+            b.step(1, 500);
+        }
+        // traveller 1 goes from 1 to 2, up to DONE
+        b.x.pass(1, 2);
+        b.x.pass(2, 1);
+        b.passAll(1, 2);
+        b.x.tick(2);
+        b.x.pass(2, 1);
+        b.passAll(1, 2);
+        b.due("WHOLE", b.x.pass(2, 1), 4);
+        b.due("RELEASE", b.passAll(1, 2), "5");
+        b.due("GONE", b.x.traveller(1, 1, 0), 3);
+        // twenty parts of traveller 0 come, 1 keeps itself, then the record of traveller 1 is no more, and it falls
+        b.x.pass(0, 1);
+        b.x.pass(1, 0);
+        b.passAll(0, 1);
+        b.due("parts", b.x.traveller(0, 1, 8), 20);
+        b.x.power(1, 0);
+        b.due("DONE", b.x.pass(2, 1), 6);
+        b.due("first", b.x.at(1, 0), 0);
+        b.x.power(1, 1);
+        b.x.power(1, 2);
+        b.due("first", b.x.at(1, 0), 1);
+        b.due("second", b.x.at(1, 1), 0);
+        b.due("parts", b.x.traveller(0, 1, 8), 20);
+        b.x.tick(1);
+        b.settle(0, 1);
+        b.due("ACTING", b.x.traveller(0, 1, 0), 0);
+        b.step(1, 50);
+        b.due("end", b.x.traveller(0, 1, 6), -1);
+        // and nothing of what it had before is left where one begins anew
+        b.begin("main{print 3;if(twin==0){print 4;return 5;}while(true)1;}");
+        b.step(0, 20);
+        b.due("end", b.x.traveller(1, 0, 6), 5);
+        b.x.power(0, 1);
+        b.x.power(0, 2);
+        b.due("start", b.start(0, 0), 2);
+        int[] want = {0, 0, 0, 0, 0, 1, 0, -1, 0, 0, 0};
+        for (int what = 0; what < want.length; what++) {
+            b.due("new " + what, b.x.traveller(2, 0, what), want[what]);
+        }
+    }
+
+    private static void laterMoves(Bench b) {
+        // NO tells the move that it answers
+        b.begin("main{go 1;go 1;while(true)1;}");
+        for (int i = 0; i < 8; i++) {
+            b.start(0, 1);
+        }
+        b.step(0, 2);
+        b.settle(0, 1);
+        b.step(0, 3);
+        b.x.pass(0, 1);
+        b.due("NO", b.x.message(1, 0, 0, 0), 2);
+        b.due("move", b.x.message(1, 0, 0, 2), 2);
+        b.due("why", b.x.message(1, 0, 0, 3), 2);
+        b.due("kept nothing", b.x.host(1, 4), 9);
+        // a traveller that ends makes room
+        b.begin("main{if(self==0)go 1;return 4;}");
+        for (int i = 0; i < 8; i++) {
+            b.start(0, 1);
+        }
+        b.step(0, 9);
+        b.step(1, 9);
+        b.x.pass(0, 1);
+        b.due("COMING", b.x.traveller(0, 1, 0), 4);
+        b.due("the last one", b.x.at(1, 8), 0);
     }
 }

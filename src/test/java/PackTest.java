@@ -438,6 +438,7 @@ public final class PackTest {
         byte[] one = make(0, 0, sum, 0, 0, 0, 0, 0, 1, 0, 2, 1, 1, 0, 0, 0, 0);
         b.feed(one);
         b.due("come", b.come(3) > 0, true);
+        b.begin("class C{int[] r;C n;}main{C c=new C;while(true)1;}");
         byte[] two = make(0, 0, sum, 0, 0, 0, 0, 0, 1, 0, 2, 1, 2, 0, 0, 0, 0, 0, 0, 0, 0);
         b.feed(two);
         b.due("come", b.come(3), -5);

@@ -311,6 +311,19 @@ public final class StepTest {
         b.due("cell", b.x.cell(1, 0, 0, -2), 0);
         b.due("cell", b.x.cell(0, 1, 0, -2), 0);
         b.due("cell", b.x.cell(0, 7, 0, -2), 0);
+        // asked first, when others that can't be reached any more lie about
+        b.begin("class C{int v;}main{new C;new C;C c=new C;c.v=4;while(true)1;}");
+        b.step(0, 30);
+        b.due("cell", b.x.cell(0, 0, 0, 0), 4);
+        b.due("cell", b.x.cell(0, 0, 1, -2), 0);
+        b.begin("class C{int v;}main{new C;new C;C c=new C;c.v=4;while(true)1;}");
+        b.step(0, 30);
+        b.due("value", b.x.value(0, 0, 0, 0), 0);
+        b.begin("class C{int v;}main{new C;new C;C c=new C;c.v=4;while(true)1;}");
+        b.step(0, 30);
+        b.due("reached", b.x.traveller(0, 0, 10), 1);
+        b.begin("class A{int v;B b;bool w;}class B{}main{A a=new A;a.v=-8;a.b=new B;a.w=true;pin a;while(true)1;}");
+        b.step(0, 30);
         b.due("thing", b.x.thing(0, 0, 0), -8);
         b.due("thing's reference", b.x.thing(0, 0, 1), 0);
         b.due("thing's bool", b.x.thing(0, 0, 2), 1);

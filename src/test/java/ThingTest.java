@@ -18,6 +18,8 @@ public final class ThingTest {
         toldFromAfar(b);
         notThere(b);
         kept(b);
+        ofOthers(b);
+        twinsCalls(b);
         b.end();
     }
 
@@ -248,5 +250,56 @@ public final class ThingTest {
         b.step(1, 10);
         b.due("end", b.x.traveller(0, 1, 6), 5);
         b.due("done once", b.x.thing(0, 0, 0), 5);
+    }
+
+    /** That a THING is of another program, or class, only bytes can bring about. */
+    private static void ofOthers(Bench b) {
+        String one = "class D{int v;}class C{int v;int up(int k){v=v+k;return v;}}";
+        String two = one + "main{far C f=pin new C;while(true)try{print f.up(1);}catch(e){return e;}}";
+        b.fresh();
+        b.due("read", b.read(one + "main{pin new D;pin new C;while(true)1;}"), 0);
+        b.due("read", b.read(two), 1);
+        b.due("read", b.read("class C{int v;int up(int k){v=v+k;return v;}}main{pin new C;pin new C;while(true)1;}"), 2);
+        for (int p = 0; p < 3; p++) {
+            b.x.give(p, p);
+            b.x.give(p, 1);
+        }
+        b.start(0, 0);
+        b.step(0, 20);
+        b.start(2, 2);
+        b.step(2, 20);
+        b.start(1, 1);
+        b.step(1, 3);
+        // its THING is 0 of host 1; it comes to 0 and 2 with others
+        byte[] bytes = b.packed(2, 1);
+        int at = bytes.length - 8 - 4;
+        b.due("the THING's bytes", bytes[at] == 4 && bytes[at + 1] == 0, true);
+        int[][] wants = {{0, 0, -6}, {0, 1, -6}, {0, 2, -6}, {2, 0, -6}, {1, 0, 2}};
+        for (int[] w : wants) {
+            byte[] other = bytes.clone();
+            other[at] = (byte) (2 * (w[0] + 1));
+            other[at + 1] = (byte) (2 * w[1]);
+            long sum = Bench.sum(other, other.length - 8);
+            for (int i = 0; i < 8; i++) {
+                other[other.length - 8 + i] = (byte) (sum >>> 56 - 8 * i);
+            }
+            b.feed(other);
+            int t = b.come(w[0]);
+            b.due("came", t > 2, true);
+            b.step(w[0], 9);
+            b.due("of " + w[0] + " " + w[1], w[2] < 0 ? b.x.traveller(t, w[0], 6) : b.x.line(t, w[0], 0), w[2]);
+        }
+    }
+
+    private static void twinsCalls(Bench b) {
+        atOne(b, "f.up(1);twin;f.up(self+10);while(true)1;");
+        b.settle(1, 0);
+        b.step(1, 100);
+        b.due("calls", b.x.traveller(0, 1, 3), 2);
+        b.due("moves", b.x.traveller(0, 1, 2), 1);
+        b.due("the twin's", b.x.traveller(1, 1, 3), 1);
+        b.due("the twin's moves", b.x.traveller(1, 1, 2), 0);
+        b.settle(1, 0);
+        b.due("each", b.x.thing(0, 0, 0), 1 + 10 + 11);
     }
 }
