@@ -7,6 +7,7 @@ public final class CodeTest {
         nulls(b);
         statements(b);
         methods(b);
+        reaches(b);
         handlers(b);
         ways(b);
         sums(b);
@@ -106,6 +107,17 @@ public final class CodeTest {
         b.due("instruction", b.x.instruction(0, 0, -1), -1);
         b.code("class C{int f(int k){return k;}}main{far C c=null;c.f(2);}",
             "LOAD 1; ANSWER; NUMBER; ANSWER; NULL 2; STORE; LOAD; NUMBER 2; FAR 0 1; DROP" + END);
+    }
+
+    private static void reaches(Bench b) {
+        // a LOCAL or parameter hides the field, as long as it is in reach
+        b.code("class C{int a;int c;int m(int a){a=c;{int c=a;c=a;}return c;}}main{}",
+            "LOAD; FIELD 1; STORE 1; LOAD 1; STORE 2; LOAD 1; STORE 2; LOAD; FIELD 1; ANSWER; NUMBER; ANSWER; NUMBER; ANSWER");
+        b.code("class C{int a;int m(){int a=a;a=this.a;return a;}}main{}",
+            "LOAD; FIELD; STORE 1; LOAD; FIELD; STORE 1; LOAD 1; ANSWER; NUMBER; ANSWER; NUMBER; ANSWER");
+        b.code("class C{int m;int n(int k){return m;}}class D{int n;int m(int k){n=m(n);return n;}}main{}",
+            "LOAD; FIELD; ANSWER; NUMBER; ANSWER; LOAD; LOAD; LOAD; FIELD; CALL 1 1; SETFIELD; LOAD; FIELD; ANSWER; NUMBER; ANSWER; "
+            + "NUMBER; ANSWER");
     }
 
     private static void handlers(Bench b) {

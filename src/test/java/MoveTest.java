@@ -87,6 +87,16 @@ public final class MoveTest {
         b.due("tick", b.x.tick(0), true);
         b.due("tick", b.x.tick(5), false);
         b.due("tick", b.x.tick(-1), false);
+        // what it ended with is put by, too
+        b.begin("main{print 6;return 5;}");
+        b.step(0, 9);
+        b.x.power(0, 0);
+        b.x.power(0, 1);
+        int[] want = {7, 4, 0, 0, 1, 1, 5, -1, 0, 0, 0};
+        for (int what = 0; what < want.length; what++) {
+            b.due("ENDED " + what, b.x.traveller(0, 0, what), want[what]);
+        }
+        b.due("line", b.x.line(0, 0, 0), 6);
         // what a twin began as is not kept, its number is used
         b.begin("main{twin;while(true)1;}");
         b.step(0, 3);
@@ -805,6 +815,27 @@ public final class MoveTest {
         b.due("move", b.x.message(1, 0, 0, 2), 2);
         b.due("why", b.x.message(1, 0, 0, 3), 2);
         b.due("kept nothing", b.x.host(1, 4), 9);
+        // what is answered to one traveller is not what was last said of another
+        for (int program = 0; program < 2; program++) {
+            b.fresh();
+            b.read("main{if(self==1)go 2;go 1;while(true)1;}");
+            b.x.give(0, 0);
+            if (program == 1) {
+                b.x.give(1, 0);
+            }
+            b.start(0, 0);
+            b.start(0, 0);
+            b.step(0, 50);
+            b.settle(0, 2);
+            b.step(0, 50);
+            b.due("second's move", b.x.message(0, 1, 1, 2), 2);
+            b.x.pass(0, 1);
+            b.due("READY or NO", b.x.message(1, 0, 0, 0), program == 1 ? 1 : 2);
+            b.due("first's move", b.x.message(1, 0, 0, 2), 1);
+            b.x.pass(0, 1);
+            b.due("second's move", b.x.message(1, 0, 1, 2), 2);
+        }
+        wholeOfAnEarlierMove(b);
         // a traveller that ends makes room
         b.begin("main{if(self==0)go 1;return 4;}");
         for (int i = 0; i < 8; i++) {
@@ -815,5 +846,40 @@ public final class MoveTest {
         b.x.pass(0, 1);
         b.due("COMING", b.x.traveller(0, 1, 0), 4);
         b.due("the last one", b.x.at(1, 8), 0);
+    }
+
+    /** A NO that was late: HERE WHOLE of that move stays, until a later one comes. */
+    private static void wholeOfAnEarlierMove(Bench b) {
+        b.begin("main{if(self>0)return 4;bool c=go 1;if(c)print 1;else print 2;c=go 1;if(c)print 3;else print 4;return 5;}");
+        for (int i = 0; i < 8; i++) {
+            b.start(0, 1);
+        }
+        b.step(0, 20);
+        b.x.trouble(0, 1, 1);
+        b.x.pass(0, 1);
+        b.step(1, 20);
+        b.x.pass(0, 1);
+        b.due("NO is first", b.x.message(1, 0, 0, 0), 2);
+        b.x.trouble(1, 0, 2);
+        b.due("READY", b.x.pass(1, 0), 1);
+        b.passAll(0, 1);
+        b.due("HERE WHOLE", b.x.traveller(0, 1, 0), 5);
+        b.due("NO", b.x.pass(1, 0), 2);
+        b.due("ACTING", b.x.traveller(0, 0, 0), 0);
+        b.due("WHOLE", b.x.pass(1, 0), 4);
+        b.due("does nothing", b.x.count(3), 0);
+        b.due("ACTING", b.x.traveller(0, 0, 0), 0);
+        b.step(0, 20);
+        int kept = b.x.host(1, 4);
+        b.due("OFFER of move 2", b.x.pass(0, 1), 0);
+        b.due("COMING", b.x.traveller(0, 1, 0), 4);
+        b.due("move", b.x.traveller(0, 1, 2), 2);
+        b.due("the last one", b.x.at(1, 8), 0);
+        b.due("nothing is KEPT", b.x.host(1, 4), kept);
+        b.settle(0, 1);
+        b.step(1, 20);
+        b.due("end", b.x.traveller(0, 1, 6), 5);
+        b.due("line", b.x.line(0, 1, 0), 2);
+        b.due("line", b.x.line(0, 1, 1), 3);
     }
 }

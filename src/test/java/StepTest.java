@@ -165,6 +165,11 @@ public final class StepTest {
             + "main{try{new C.m(new int[100],new int[100],new int[100],new int[1]);}catch(e){return e;}}", -4);
         b.answers("class C{int m(int[] a,int[] c,int[] d,int[] e){return a.length;}}"
             + "main{return new C.m(new int[100],new int[100],new int[100],new int[0]);}", 100);
+        // what is new is 0 and null, whatever lay there before
+        b.answers("main{int i=0;while(i<20){int[] r=new int[100];if(r[5]!=0)return 1;r[5]=7;i=i+1;}return 2;}", 2);
+        b.answers("class C{int v;C n;}main{int i=0;while(i<99){C c=new C;if(c.v!=0||c.n!=null)return 1;c.v=7;c.n=c;i=i+1;}return 2;}", 2);
+        b.answers("class C{int m(int k){int z=0;if(k>0){int y=5;}else{{int x=1;}}return y2(k);}int y2(int k){int a=1;return k;}}"
+            + "main{C c=new C;return c.m(1)+c.m(0);}", 1);
         // cycles
         b.answers("class C{C n;int v;}main{int i=0;while(i<200){C c=new C;C d=new C;c.n=d;d.n=c;d.v=i;i=c.n.v+1;}return i;}", 200);
         // twelve fields each

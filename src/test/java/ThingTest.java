@@ -19,6 +19,7 @@ public final class ThingTest {
         notThere(b);
         kept(b);
         ofOthers(b);
+        ofASecondProgram(b);
         twinsCalls(b);
         b.end();
     }
@@ -289,6 +290,17 @@ public final class ThingTest {
             b.step(w[0], 9);
             b.due("of " + w[0] + " " + w[1], w[2] < 0 ? b.x.traveller(t, w[0], 6) : b.x.line(t, w[0], 0), w[2]);
         }
+    }
+
+    /** What a call leaves of a THING is still of its program. */
+    private static void ofASecondProgram(Bench b) {
+        b.fresh();
+        b.read("main{}");
+        b.due("read", b.read(UP + "main{far C f=pin new C;print f.fill(0);print f.fill(0);print f.fill(0);return f.up(1);}"), 1);
+        b.x.give(0, 1);
+        b.start(1, 0);
+        b.step(0, 50);
+        b.due("end", b.x.traveller(0, 0, 6), 4);
     }
 
     private static void twinsCalls(Bench b) {
