@@ -192,6 +192,12 @@ public final class MoveTest {
         b.due("line", b.x.line(0, 2, 0), 0);
         b.due("line", b.x.line(0, 2, 1), 101);
         b.due("line", b.x.line(0, 2, 2), 302);
+        // one that begins where another one was has none of its MOVES
+        b.due("start", b.start(0, 0), 1);
+        int[] anew = {0, 0, 0, 0, 0, 1, 0, -1, 0, 0, 0};
+        for (int what = 0; what < anew.length; what++) {
+            b.due("anew " + what, b.x.traveller(1, 0, what), anew[what]);
+        }
     }
 
     private static void packedOnTheWay(Bench b) {
@@ -834,6 +840,8 @@ public final class MoveTest {
             b.due("first's move", b.x.message(1, 0, 0, 2), 1);
             b.x.pass(0, 1);
             b.due("second's move", b.x.message(1, 0, 1, 2), 2);
+            b.x.pass(1, 0);
+            b.due("first's PART", b.x.message(0, 1, 0, 2), program == 1 ? 1 : -1);
         }
         wholeOfAnEarlierMove(b);
         // a traveller that ends makes room

@@ -152,7 +152,7 @@ public final class PackTest {
         b.due("ends alike", b.x.traveller(1, 2, 6), b.x.traveller(0, 0, 6));
         b.due("steps alike", b.x.traveller(1, 2, 1), b.x.traveller(0, 0, 1));
         // counts go on, MOVES and CALLS begin anew
-        b.begin("main{while(true)1;}");
+        b.begin("main{while(true)print 1;}");
         b.feed(make(0, 0, b.x.program(0, 3), 29, 2147483647, 12, 13, 2147483647, 0, 0, 0, 0, 0, 0, 0, 0, 0, 0, 0, 0, 0, 0, 0, 0, 0,
             0, 0, 0, 0, 0, 0, 0, 0, 0, 0, 0, 0, 0, 0, 0, 0, 0, 0, 0, 0, 0, 0, 0, 0, 0, 0, 0, 0, 0, 0, 0, 0, 0, 0, 0, 0, 0, 0, 0, 0, 0, 0, -9,
             1, 0, 0, 0));
@@ -164,6 +164,8 @@ public final class PackTest {
         b.due("line", b.x.line(1, 0, 59), -9);
         b.due("step", b.step(0, 5), 10);
         b.due("steps stay there", b.x.traveller(1, 0, 1), Integer.MAX_VALUE);
+        b.due("lines stay there", b.x.traveller(1, 0, 4), Integer.MAX_VALUE);
+        b.due("another line", b.x.traveller(0, 0, 4), 1);
     }
 
     private static void exceptions(Bench b) {

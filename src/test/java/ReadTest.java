@@ -14,6 +14,7 @@ public final class ReadTest {
         whichIsFirst(b);
         limits(b);
         programs(b);
+        oneBehindAnother(b);
         b.end();
     }
 
@@ -167,6 +168,9 @@ public final class ReadTest {
         b.fault("class C{int m(int k){return " + times("m(", 18) + "\n1" + times(")", 18) + ";}}main{}", 3, 2);
         b.fault("main{new int[" + times("(", 17) + "\n1", 3, 2);
         // of one token the least
+        b.fault("main" + times("{", 20) + "\n;", 2, 2);
+        b.fault("main" + times("{", 20) + "\nelse", 2, 2);
+        b.fault("main" + times("{", 19) + "if(true)", 3, 1);
         b.fault("main{" + times("(", 18) + "\n)", 2, 2);
         b.fault("main{" + times("(", 18) + "\n#", 1, 2);
         // as wide as can be
@@ -394,5 +398,27 @@ public final class ReadTest {
         }
         b.due("tape", b.x.count(0), 0);
         b.due("none", b.x.program(8, 0), -1);
+    }
+
+    /** Nothing of one text is left for the next one. */
+    private static void oneBehindAnother(Bench b) {
+        b.fresh();
+        b.due("many LOCALS", b.read("main{" + times("{int a=1;}", 31) + "}"), -9);
+        b.due("fine", b.read("class C{int v;int m(int k){return v;}}main{C c=new C;return c.m(1);}"), 0);
+        b.due("many lines", b.read("\n\n\nclass D{}\nmain{\nx;}"), -(5 + 16 * 6));
+        b.due("no class C", b.read("main{C c=null;}"), -(5 + 16));
+        b.due("no class D", b.read("class C{D d;}main{}"), -(5 + 16));
+        b.due("no field", b.read("class C{int m(){return v;}}main{}"), -(5 + 16));
+        b.due("no method", b.read("class C{int v(){return m(1);}}main{}"), -(5 + 16));
+        b.due("deep", b.read("main" + times("{", 21)), -(3 + 16));
+        b.due("fine", b.read("main" + times("{", 20) + times("}", 20)), 1);
+        b.due("bad", b.read("main{#}"), -(1 + 16));
+        b.due("long", b.read("main{" + times("1;", 700) + "}"), -9);
+        b.due("fine", b.read("main{try{raise 1;}catch(e){print e;}}"), 2);
+        b.due("code", b.code(2), "NUMBER 1; RAISE; JUMP 6; STORE; LOAD; PRINT; NUMBER; ANSWER");
+        b.due("handlers", b.column(2, 3), "3 3 -1 -1 -1 -1 -1 -1");
+        b.due("heights", b.column(2, 4), "0 1 -1 1 0 1 0 1");
+        b.due("the first as it was", b.code(0), "LOAD; FIELD; ANSWER; NUMBER; ANSWER; NEW; STORE; LOAD; NUMBER 1; CALL 0 1; ANSWER; "
+            + "NUMBER; ANSWER");
     }
 }

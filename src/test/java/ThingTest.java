@@ -301,6 +301,33 @@ public final class ThingTest {
         b.start(1, 0);
         b.step(0, 50);
         b.due("end", b.x.traveller(0, 0, 6), 4);
+        // also when it was put by
+        b.fresh();
+        b.read("main{}");
+        b.due("read", b.read(UP + "main{far C f=pin new C;far C g=pin new C;go 1;print g.up(1);go 2;return f.up(2)+10*g.up(3);}"), 1);
+        for (int h = 0; h < 3; h++) {
+            b.x.give(h, 1);
+        }
+        b.start(1, 0);
+        b.step(0, 50);
+        b.x.power(0, 1);
+        b.x.power(0, 2);
+        b.settle(0, 1);
+        b.step(1, 50);
+        b.due("which THING", b.x.message(1, 0, 0, 3), 1);
+        b.settle(0, 1);
+        b.step(1, 50);
+        b.due("line", b.x.line(0, 1, 0), 1);
+        b.settle(1, 2);
+        b.due("calls go along", b.x.traveller(0, 2, 3), 1);
+        b.step(2, 50);
+        b.due("the second call", b.x.message(2, 0, 0, 2), 2);
+        b.due("which THING", b.x.message(2, 0, 0, 3), 0);
+        b.settle(0, 2);
+        b.step(2, 50);
+        b.settle(0, 2);
+        b.step(2, 50);
+        b.due("end", b.x.traveller(0, 2, 6), 42);
     }
 
     private static void twinsCalls(Bench b) {
