@@ -718,30 +718,9 @@ public final class MoveTest {
         b.due("whole by the first one", b.x.traveller(0, 1, 0), 5);
     }
 
-    /** Some sizes at the edges: 2,000 bytes, and parts that are all full. */
+    /** Sizes one by one: some parts are all full. */
     private static void exactSizes(Bench b) {
         int full = 0;
-        boolean most = false;
-        boolean tooMany = false;
-        int[] widths = {1, 100, 10000, 2000000};
-        for (int k = 0; k < 40; k++) {
-            b.begin("class C{int[] r;int[] q;int[] s;int m(int n,int a,int b,int c){if(n>0)return m(n-1,a,b,c);"
-                + "try{go 1;}catch(e){return e;}return 7;}}"
-                + "main{C c=new C;c.r=new int[98];c.q=new int[98];c.s=new int[98];int i=0;int z=2147483647;"
-                + "while(i<98){c.r[i]=z;c.q[i]=-z;c.s[i]=z;i=i+1;}i=0;while(i<59){if(i<" + (50 + k / 4) + ")print z;else print 1;i=i+1;}"
-                + "print " + widths[k % 4] + ";return c.m(9,z,z,z);}");
-            while (b.x.instruction(0, b.x.frame(0, 0, b.x.traveller(0, 0, 5) - 1, 1), 0) != 23) {
-                b.step(0, b.x.traveller(0, 0, 5) == 1 && b.x.traveller(0, 0, 1) < 2000 ? 50 : 1);
-            }
-            // without the E, which has a byte
-            int size = b.x.pack(0, 0) - 1;
-            b.step(0, 1);
-            b.due("goes with " + size, b.x.traveller(0, 0, 0), size <= 2000 ? 1 : 0);
-            b.due("moves", b.x.traveller(0, 0, 2), size <= 2000 ? 1 : 0);
-            most = most || size == 2000;
-            tooMany = tooMany || size == 2001;
-        }
-        b.due("sizes on both sides", most && tooMany, true);
         for (int k = 0; k < 60; k++) {
             b.begin("main{int i=0;while(i<" + (10 + k) + "){print 1;i=i+1;}go 1;}");
             b.step(0, 500);

@@ -144,7 +144,7 @@ public final class PackTest {
         b.due("line", b.x.line(1, 2, 0), 70000);
         byte[] again = b.packed(1, 2);
         b.due("but for the number", again.length, bytes.length);
-        for (int i = 0; i < 40; i++) {
+        for (int i = 0; i < 20; i++) {
             b.step(0, 500);
             b.step(2, 500);
         }
@@ -305,7 +305,7 @@ public final class PackTest {
             {34, 0}, {34, -1}, {34, 41}, {35, 1}, {35, -1}, {36, 0}, {36, 2}, {38, 3}, {39, 1}, {39, 4}, {39, -1}, {40, 1}, {41, 1},
             {42, 2}, {43, 5}, {43, 1}, {43, 2}, {44, 6}, {44, -1}, {45, 20}, {45, -1}, {46, 0}, {46, 2}, {47, -1}, {47, 101}};
         for (int i = 0; i < all.length; i++) {
-            if (i % 30 == 29) {
+            if (i % 20 == 9) {
                 b.begin(TEXT);
             }
             byte[] bad = otherNum(good, all[i][0], all[i][1]);

@@ -32,14 +32,12 @@ public final class RandomTest {
         for (int i = 0; i < 300; i++) {
             anyCalls(b, i);
         }
-        for (int i = 0; i < 200; i++) {
-            storms(b, i);
-        }
-        for (int i = 0; i < 60; i++) {
+        storms(b);
+        for (int i = 0; i < 2000; i++) {
             spoiltBytes(b, i);
         }
         sameWithoutTrouble(b);
-        for (int i = 0; i < TEXTS.length; i++) {
+        for (int i = 0; i < 60; i++) {
             heights(b, i);
         }
         b.end();
@@ -101,8 +99,8 @@ public final class RandomTest {
 
     private static void anyCalls(Bench b, int round) {
         prepare(b, round);
-        TravelHouse x = b.x;
-        for (int i = 0; i < 440; i++) {
+        House x = b.x;
+        while (x.callsMade() < House.MOST_CALLS - 1) {
             int which = R.nextInt(42);
             switch (which) {
                 case 0: x.feed(any(), any(), any(), any(), any()); break;
@@ -147,78 +145,111 @@ public final class RandomTest {
         b.due("it goes on", x.count(2) >= 2, true);
     }
 
-    /** Where it is acting, of those that are UP. */
-    private static int acting(Bench b, int t) {
-        int found = 0;
-        for (int h = 0; h < 5; h++) {
-            int state = b.x.traveller(t, h, 0);
-            if (b.x.host(h, 0) == 1 && (state == 0 || state == 6 || state == 7 || state == 8)) {
-                found++;
-            }
-        }
-        return found;
-    }
+    private static final String TOUR = "main{int i=0;while(i<4){if(go (i%3))print here;else print 10+here;i=i+1;}return i;}";
 
-    private static void storms(Bench b, int round) {
+    private static void tour(Bench b) {
         b.fresh();
-        String text = "main{int i=0;while(i<6){if(go (i%3))print here;else print 10+here;i=i+1;}return i;}";
-        b.due("read", b.read(text), 0);
+        b.due("read", b.read(TOUR), 0);
         for (int h = 0; h < 3; h++) {
             b.x.give(h, 0);
         }
         b.start(0, 0);
-        for (int i = 0; i < 400; i++) {
-            int h = R.nextInt(3);
-            int g = R.nextInt(3);
-            switch (R.nextInt(14)) {
-                case 0: b.x.trouble(h, g, R.nextInt(4)); break;
-                case 1: b.x.power(h, 1); break;
-                case 2:
-                case 3: b.x.power(h, 2); break;
-                case 4:
-                case 5: b.x.tick(h); break;
-                case 6: b.x.giveUp(0, h); break;
-                case 7:
-                case 8:
-                case 9: b.step(h, R.nextInt(30)); break;
-                default: b.x.pass(h, g); break;
+    }
+
+    /** Something that happens at three hosts or between them. */
+    private static void anything(Bench b, boolean[] up) {
+        int h = R.nextInt(3);
+        int g = R.nextInt(3);
+        switch (R.nextInt(14)) {
+            case 0: b.x.trouble(h, g, R.nextInt(4)); break;
+            case 1: up[h] = !b.x.power(h, 1) && up[h]; break;
+            case 2:
+            case 3: up[h] = b.x.power(h, 2) || up[h]; break;
+            case 4:
+            case 5: b.x.tick(h); break;
+            case 6: b.x.giveUp(0, h); break;
+            case 7:
+            case 8:
+            case 9: b.step(h, R.nextInt(30)); break;
+            default: b.x.pass(h, (h + 1 + R.nextInt(2)) % 3); break;
+        }
+    }
+
+    /** Whatever happens a traveller acts at one host that is UP at most. */
+    private static void actsAtOne(Bench b) {
+        tour(b);
+        boolean[] up = {true, true, true};
+        while (b.x.callsMade() < House.MOST_CALLS - 4) {
+            anything(b, up);
+            int found = 0;
+            for (int h = 0; h < 3; h++) {
+                int state = b.x.traveller(0, h, 0);
+                found += up[h] && (state == 0 || state >= 6) ? 1 : 0;
             }
-            b.due("acting at one host at most", acting(b, 0) <= 1, true);
+            b.due("acting at one host at most", found <= 1, true);
+        }
+    }
+
+    private static int endedAt(Bench b) {
+        int found = -1;
+        for (int h = 0; h < 3; h++) {
+            found = b.x.traveller(0, h, 0) == 7 ? h : found;
+        }
+        return found;
+    }
+
+    private static boolean wasDeepInStorms(Bench b) {
+        tour(b);
+        boolean[] up = {true, true, true};
+        for (int i = 0; i < 120; i++) {
+            anything(b, up);
         }
         // then it gets calm, and the traveller comes to its end
         for (int h = 0; h < 3; h++) {
             b.x.power(h, 2);
         }
-        for (int i = 0; i < 40; i++) {
+        int ended = endedAt(b);
+        while (ended < 0 && b.x.callsMade() < House.MOST_CALLS - 90) {
+            boolean quiet = b.x.count(3) == 0;
             for (int h = 0; h < 3; h++) {
-                b.x.tick(h);
-                b.step(h, 100);
-                for (int g = 0; g < 3; g++) {
-                    b.passAll(h, g);
+                if (quiet) {
+                    b.x.tick(h);
                 }
+                b.step(h, 100);
+                b.passAll(h, (h + 1) % 3);
+                b.passAll(h, (h + 2) % 3);
             }
+            ended = endedAt(b);
         }
-        int ended = -1;
-        for (int h = 0; h < 3; h++) {
-            ended = b.x.traveller(0, h, 0) == 7 ? h : ended;
+        if (ended < 0) {
+            return false;
         }
-        b.due("it ended", ended >= 0, true);
-        if (ended >= 0) {
-            b.due("with", b.x.traveller(0, ended, 6), 6);
-            b.due("lines", b.x.traveller(0, ended, 4), 6);
-            int at = 0;
-            for (int i = 0; i < 6; i++) {
-                int line = b.x.line(0, ended, i);
-                at = line < 10 ? i % 3 : at;
-                b.due("line", line, line < 10 ? at : 10 + at);
-            }
-            b.due("moves", b.x.traveller(0, ended, 2) <= 6, true);
+        b.due("with", b.x.traveller(0, ended, 6), 4);
+        b.due("lines", b.x.traveller(0, ended, 4), 4);
+        int at = 0;
+        for (int i = 0; i < 4; i++) {
+            int line = b.x.line(0, ended, i);
+            at = line < 10 ? i % 3 : at;
+            b.due("line", line, line < 10 ? at : 10 + at);
         }
+        b.due("moves", b.x.traveller(0, ended, 2) <= 4, true);
+        return true;
+    }
+
+    private static void storms(Bench b) {
+        for (int i = 0; i < 300; i++) {
+            actsAtOne(b);
+        }
+        int ended = 0;
+        for (int i = 0; i < 300; i++) {
+            ended += wasDeepInStorms(b) ? 1 : 0;
+        }
+        b.due("most came to their end", ended > 250, true);
     }
 
     private static void spoiltBytes(Bench b, int round) {
         prepare(b, round);
-        for (int i = 0; i < 12; i++) {
+        for (int i = R.nextInt(4); i >= 0; i--) {
             b.step(0, R.nextInt(40));
             b.settle(0, 1);
             b.step(1, R.nextInt(40));
@@ -226,14 +257,12 @@ public final class RandomTest {
             b.settle(0, 2);
             b.step(2, R.nextInt(40));
             b.settle(1, 2);
-            for (int h = 0; h < 3; h++) {
-                for (int t = 0; t < 2; t++) {
-                    byte[] bytes = b.packed(t, h);
-                    if (bytes.length > 0) {
-                        oneSpoilt(b, bytes.clone());
-                    }
-                }
-            }
+        }
+        int h = R.nextInt(3);
+        int t = R.nextInt(2);
+        int size = b.x.pack(t, h);
+        if (size > 0 && b.x.callsMade() + size < House.MOST_CALLS - 3) {
+            oneSpoilt(b, b.packed(t, h));
         }
     }
 
@@ -300,8 +329,17 @@ public final class RandomTest {
     /** Step by step: the stack is as high as the code says, of frames beneath without what CALL took and answers. */
     private static void heights(Bench b, int round) {
         prepare(b, round);
-        for (int i = 0; i < 3000; i++) {
-            b.step(0, 1);
+        for (int i = R.nextInt(3); i >= 0; i--) {
+            b.step(0, R.nextInt(400));
+            b.settle(0, 1);
+            b.settle(0, 2);
+            b.step(1, 500);
+            b.step(2, 500);
+            b.settle(1, 0);
+            b.settle(2, 0);
+        }
+        while (b.x.callsMade() < House.MOST_CALLS - 2 * 12 * 7) {
+            b.step(0, 1 + R.nextInt(3));
             for (int t = 0; t < 2; t++) {
                 int frames = b.x.traveller(t, 0, 0) == 0 ? b.x.traveller(t, 0, 5) : 0;
                 for (int f = 0; f < frames; f++) {
@@ -311,36 +349,34 @@ public final class RandomTest {
                     b.due("slots", b.x.frame(t, 0, f, 2), b.x.method(0, b.x.frame(t, 0, f, 0), 2));
                 }
             }
-            if (i % 50 == 49) {
-                for (int h = 0; h < 5; h++) {
-                    for (int g = 0; g < 5; g++) {
-                        b.settle(h, g);
-                    }
-                    b.x.step(h, h == 0 ? 0 : 500);
-                }
-            }
         }
     }
 
+    private static final String SUMS = "class C{int v;C n;int f(int k){if(k<2)return v;#C c=new C;c.v=k;n=c;return f(k-1)+n.f(k-2)+v;}}"
+        + "main{return new C.f(5);}";
+
     /** With or without a move in its midst, with or without a fall. */
     private static void sameWithoutTrouble(Bench b) {
-        for (int i = 0; i < 40; i++) {
-            b.begin("class C{int v;C n;int f(int k){if(k<2)return v;go (k%2);C c=new C;c.v=k;n=c;return f(k-1)+n.f(k-2)+v;}}"
-                + "main{return new C.f(7);}");
-            for (int k = 0; k < 200; k++) {
+        b.answers(SUMS.replace("#", ""), 20);
+        for (int i = 0; i < 150; i++) {
+            b.begin(SUMS.replace("#", "go (k%2);"));
+            int h = -1;
+            for (int k = 0; h < 0 && b.x.callsMade() < House.MOST_CALLS - 80; k++) {
                 b.step(0, 1 + R.nextInt(50));
                 b.step(1, 1 + R.nextInt(50));
-                if (k < 150 && R.nextInt(8) == 0) {
-                    b.x.power(R.nextInt(2), 1);
-                    b.x.power(0, 2);
-                    b.x.power(1, 2);
+                if (k < 25 && R.nextInt(8) == 0) {
+                    int fallen = R.nextInt(2);
+                    b.x.power(fallen, 1);
+                    b.x.power(fallen, 2);
                 }
-                b.x.tick(R.nextInt(2));
+                if (R.nextInt(3) == 0) {
+                    b.x.tick(R.nextInt(2));
+                }
                 b.settle(0, 1);
+                h = b.x.traveller(0, 0, 0) == 7 ? 0 : b.x.traveller(0, 1, 0) == 7 ? 1 : -1;
             }
-            int h = b.x.traveller(0, 0, 0) == 7 ? 0 : 1;
-            b.due("ended", b.x.traveller(0, h, 0), 7);
-            b.due("end", b.x.traveller(0, h, 6), 68);
+            b.due("ended", h >= 0, true);
+            b.due("end", b.x.traveller(0, h, 6), 20);
         }
     }
 }

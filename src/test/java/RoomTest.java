@@ -40,26 +40,25 @@ public final class RoomTest {
         b.begin("class C{int[] r;C n;}main{C c=new C;c.r=new int[100];c.n=new C;c.n.r=new int[100];"
             + "while(true){if(twin==0)while(true){pin c;put self,1;}}}");
         long before = made();
-        for (int i = 0; i < 250; i++) {
+        int rounds = (House.MOST_CALLS - b.x.callsMade() - 1) / 2;
+        for (int i = 0; i < rounds; i++) {
             b.x.step(0, 500);
             b.x.power(0, 0);
         }
         b.due("keeps", made() - before < MOST, true);
-        b.due("kept", b.x.host(0, 4), 252);
+        b.due("kept", b.x.host(0, 4), 2 + rounds);
     }
 
     private static void moves(Bench b) {
         b.begin("main{int[] r=new int[100];int i=0;while(i<100){r[i]=i*1000000;i=i+1;}while(true){i=i+1;go (i%5);}}");
         long before = made();
-        for (int i = 0; i < 30; i++) {
-            for (int h = 0; h < 5; h++) {
-                b.x.step(h, 500);
-                for (int g = 0; g < 5; g++) {
-                    for (int n = 0; n < 20 && b.x.pass(h, g) >= 0; n++) {
-                        b.x.tick(h);
-                        b.x.pass(g, h);
-                    }
-                }
+        for (int i = 0; b.x.callsMade() < House.MOST_CALLS - 4; i++) {
+            int h = i % 5;
+            int g = (h + 1) % 5;
+            b.x.step(h, 500);
+            for (int n = 0; b.x.callsMade() < House.MOST_CALLS - 3 && n < 60 && b.x.pass(h, g) >= 0; n++) {
+                b.x.tick(h);
+                b.x.pass(g, h);
             }
         }
         b.due("moves", made() - before < MOST, true);

@@ -4,12 +4,22 @@ final class Bench {
         "SETELEMENT", "LENGTH", "NEW", "ROW", "CALL", "FAR", "SIGN", "MINUS", "NOT", "JUMP", "UNLESS", "ANSWER", "PRINT",
         "PUT", "GET", "RAISE", "GO", "PIN", "HERE", "SELF", "TWIN", "DROP", "SAME"};
 
-    TravelHouse x = new TravelHouse();
+    House x = new House();
     private int wrong = 0;
     private int asked = 0;
 
     void fresh() {
-        x = new TravelHouse();
+        usedFairly();
+        x = new House();
+    }
+
+    /** What a test saw behind the 512th call of an object would be no promise. */
+    private void usedFairly() {
+        if (x.callsMade() > House.MOST_CALLS) {
+            wrong++;
+            System.out.println("a test made " + x.callsMade() + " calls of one object");
+            new Throwable().printStackTrace(System.out);
+        }
     }
 
     void due(String what, long got, long want) {
@@ -33,6 +43,7 @@ final class Bench {
     }
 
     void end() {
+        usedFairly();
         System.out.println(asked + " answers, " + wrong + " of them not as due");
         if (wrong != 0 || asked == 0) {
             System.exit(1);
@@ -200,9 +211,10 @@ final class Bench {
 
     /** Messages between two hosts come until there are none. */
     void settle(int h, int g) {
-        for (int i = 0; i < 10; i++) {
-            passAll(h, g);
-            passAll(g, h);
+        boolean more = true;
+        for (int i = 0; i < 10 && more; i++) {
+            boolean there = !passAll(h, g).isEmpty();
+            more = !passAll(g, h).isEmpty() || there;
         }
     }
 
