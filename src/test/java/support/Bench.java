@@ -196,6 +196,35 @@ final class Bench {
         }
     }
 
+    private static final int[] WIDTHS = {5, 4, 4, 5, 3, 3, 3, 3, 0, 5};
+
+    /** MESSAGE i from h to g, all its numbers (no CALL, which has as many as its method takes); - if there is none. */
+    String said(int h, int g, int i) {
+        int sort = x.message(h, g, i, 0);
+        if (sort < 0) {
+            return "-";
+        }
+        StringBuilder all = new StringBuilder();
+        for (int what = 0; what < WIDTHS[sort]; what++) {
+            all.append(what == 0 ? "" : " ").append(x.message(h, g, i, what));
+        }
+        due("no more numbers", x.message(h, g, i, WIDTHS[sort]), -1);
+        return all.toString();
+    }
+
+    /** The first message from h to g that is of this sort and move overtakes all others and comes: whether there was one. */
+    boolean only(int h, int g, int sort, int move) {
+        for (int i = 0; i < 40 && x.message(h, g, i, 0) >= 0; i++) {
+            if (x.message(h, g, i, 0) == sort && x.message(h, g, i, 2) == move) {
+                for (int k = 0; k < i; k++) {
+                    x.trouble(h, g, 2);
+                }
+                return x.pass(h, g) == sort;
+            }
+        }
+        return false;
+    }
+
     /** All messages from h to g come, in their order: their sorts. */
     String passAll(int h, int g) {
         StringBuilder all = new StringBuilder();

@@ -1,0 +1,526 @@
+/** Terms 1, TEXT: the sentences that name an edge, each at the edge itself and on both sides of it. */
+public final class EdgeTextTest {
+    private static final String[] WORDS = ("bool catch class else false far get go here if int length main new null pin print put raise"
+        + " return self this true try twin while").split(" ");
+    private static final String SIGN_BYTES = "{}()[];,.=!<>+-*/%";
+
+    public static void main(String[] args) {
+        Bench b = new Bench();
+        tapes(b);
+        lines(b);
+        bytes(b);
+        names(b);
+        words(b);
+        numbers(b);
+        comments(b);
+        parameters(b);
+        members(b);
+        localsAlone(b);
+        reach(b);
+        onceOnly(b);
+        aheadOfSet(b);
+        openStatements(b);
+        openExpressions(b);
+        openUnits(b);
+        firstOfTheText(b);
+        firstOfTheRules(b);
+        sameToken(b);
+        limitsOfClasses(b);
+        limitsOfMethods(b);
+        limitsOfCode(b);
+        limitOfPrograms(b);
+        b.end();
+    }
+
+    private static String times(String s, int n) {
+        return s.repeat(n);
+    }
+
+    /** "A TAPE has at most 4,000 bytes." The last one of them is read like any other. */
+    private static void tapes(Bench b) {
+        b.fine("main{}" + times(" ", 3993) + "\n");
+        b.fine(times(" ", 3994) + "main{}");
+        b.fault(times(" ", 3994) + "main{;", 2, 1);
+        b.fault("main{}" + times(" ", 3993) + "}", 2, 1);
+        b.fault("main{}" + times(" ", 3993) + "#", 1, 1);
+        b.fresh();
+        b.feed(Bench.bytesOf(times(" ", 3980)));
+        b.due("3,980 and twenty", b.x.feed(0, 0, 0, 0, 0), 4000);
+        b.due("4,000 and twenty", b.x.feed(0, 0, 0, 0, 0), -1);
+        b.due("as many", b.x.count(0), 4000);
+        b.due("back", b.x.back(4000), 0);
+        b.due("back of none", b.x.back(1), -1);
+        b.due("the least", b.x.back(Integer.MIN_VALUE), -1);
+        b.feed(Bench.bytesOf(times(" ", 3981)));
+        b.due("3,981 and twenty", b.x.feed(0, 0, 0, 0, 0), -1);
+        b.due("as many", b.x.count(0), 3981);
+    }
+
+    /** "LINES are counted from 1 on by the bytes 10." "(of the end: one more than there are 10s)" */
+    private static void lines(Bench b) {
+        for (int n : new int[] {0, 1, 2, 15, 16, 255, 256, 3990}) {
+            b.fault(times("\n", n) + "#", 1, n + 1);
+            b.fault(times("\n", n), 2, n + 1);
+            b.fault("main" + times("\n", n) + "{x;}", 5, n + 1);
+        }
+        b.fault("main{//\n//\nx;}", 5, 3);
+        b.fault("main{}\n\n}\n\n", 2, 3);
+        b.fault("main{\n\n", 2, 3);
+        b.fault("main{//", 2, 1);
+        b.fault("main{//\n", 2, 2);
+        b.fault("main{//\n//", 2, 2);
+    }
+
+    private static boolean isLetter(int v) {
+        return v >= 'a' && v <= 'z' || v >= 'A' && v <= 'Z';
+    }
+
+    private static boolean isDigit(int v) {
+        return v >= '0' && v <= '9';
+    }
+
+    private static boolean isBlank(int v) {
+        return v == 9 || v == 10 || v == 32;
+    }
+
+    /** "between them blanks (9, 10, 32)", "NAMES: a letter, then letters, digits, _", SIGNS: each of the 256 bytes. */
+    private static void bytes(Bench b) {
+        for (int v = 0; v < 256; v++) {
+            char c = (char) v;
+            boolean sign = SIGN_BYTES.indexOf(v) >= 0;
+            int line = v == 10 ? 2 : 1;
+            // behind all
+            int fault = isBlank(v) ? 0 : sign || isLetter(v) || isDigit(v) ? 2 : 1;
+            byteDue(b, "main{}" + c, fault, 1);
+            // behind the first letter of a NAME
+            fault = isBlank(v) || isLetter(v) || isDigit(v) || v == '_' ? 0 : sign ? 2 : 1;
+            byteDue(b, "main{int a" + c + "=1;}", fault, 1);
+            // as that letter
+            fault = isLetter(v) ? 0 : isBlank(v) || sign || isDigit(v) ? 2 : 1;
+            byteDue(b, "main{int " + c + "=1;}", fault, line);
+            // in a comment any byte but 10 may stand
+            byteDue(b, "main{//" + c + "}\n}", v == 10 ? 2 : 0, 3);
+            // behind a number
+            fault = isBlank(v) || isDigit(v) ? 0 : isLetter(v) || v == '_' ? 1 : sign && v != ';' ? 2 : v == ';' ? 2 : 1;
+            byteDue(b, "main{print 1" + c + ";}", fault, 1);
+        }
+    }
+
+    private static void byteDue(Bench b, String text, int fault, int line) {
+        if (fault == 0) {
+            b.fine(text);
+        } else {
+            b.fault(text, fault, line);
+        }
+    }
+
+    /** "NAMES: .. 12 at most." */
+    private static void names(Bench b) {
+        String[] spots = {"class @{}main{}", "class C{int @;}main{}", "class C{int @(){}}main{}", "class C{int m(int @){}}main{}",
+            "main{int @=1;}", "main{try{}catch(@){}}"};
+        for (String spot : spots) {
+            b.fine(spot.replace("@", "a"));
+            b.fine(spot.replace("@", "abcdefghij_"));
+            b.fine(spot.replace("@", "Abcdefghij_9"));
+            b.fault(spot.replace("@", "\nabcdefghijk_9"), 1, 2);
+            b.fault(spot.replace("@", "\nabcdefghijklabcdefghijkl"), 1, 2);
+        }
+        // all twelve count, and the last one is looked at
+        b.fine("main{int abcdefghijkl=1;int abcdefghijkm=2;int abcdefghijk=3;}");
+        b.fault("main{int abcdefghijkl=1;\nint abcdefghijkl=2;}", 4, 2);
+        b.fine("main{int a=1;int A=2;int a_=3;int a0=4;int a00=5;}");
+    }
+
+    /** "WORDS: .." are no NAMES; what is longer, shorter or has another letter is one. */
+    private static void words(Bench b) {
+        b.due("words", WORDS.length, 26);
+        for (String word : WORDS) {
+            b.fault("main{int\n" + word + "=1;}", 2, 2);
+            b.fault("class\n" + word + "{}main{}", 2, 2);
+            b.fault("class C{int\n" + word + ";}main{}", 2, 2);
+            b.fine("main{int " + word + "s=1;}");
+            b.fine("main{int " + word + "_=1;}");
+            b.fine("main{int " + Character.toUpperCase(word.charAt(0)) + word.substring(1) + "=1;}");
+            String shorter = word.substring(0, word.length() - 1);
+            b.fine("main{int " + shorter + "=1;}");
+        }
+    }
+
+    /** "NUMBERS: digits, 2147483647 at most, no letter, digit or _ behind." */
+    private static void numbers(Bench b) {
+        for (String good : new String[] {"0", "00", "9", "2147483646", "2147483647", "02147483647", "000000000000000000002147483647"}) {
+            b.fine("main{return " + good + ";}");
+            b.due("its number", b.x.instruction(0, 0, 1), (int) Long.parseLong(good));
+        }
+        for (String bad : new String[] {"2147483648", "2147483650", "3000000000", "4294967295", "4294967296", "4294967297",
+            "9223372036854775807", "9223372036854775808", "18446744073709551615", "18446744073709551617", "21474836470",
+            "99999999999999999999999999999999999999", "0x1", "1a", "1Z", "1_", "1e5", "12345a", "1main"}) {
+            b.fault("main{return\n" + bad + ";}", 1, 2);
+        }
+        b.fault("main{return 1\na;}", 2, 2);
+        b.fault("main{return 1 2;}", 2, 1);
+        b.fault("main{return -2147483648;}", 1, 1);
+        b.fine("main{return -2147483647-1;}");
+    }
+
+    /** "comments (// up to a 10 or the end)". */
+    private static void comments(Bench b) {
+        b.fine("main{}//");
+        b.fine("main{}///");
+        b.fine("//\nmain//{\n{//}\n}//");
+        b.fine("main{int a=4//2;\n/2;}");
+        b.fault("main{int a=4/ /2;}", 2, 1);
+        b.fault("main{int a=4/\n/2;}", 2, 2);
+        b.fault("/", 2, 1);
+        b.fault("main{}/", 2, 1);
+        b.fault("main{}/*", 2, 1);
+        b.fault("//main{}", 2, 1);
+        b.fine("main{int a=1;//int a=1;\n}");
+        b.fault("main{int a=1//;\n}", 2, 2);
+    }
+
+    /** "(a METHOD, 4 parameters at most)": a fifth one can't stand there. */
+    private static void parameters(Bench b) {
+        String[] given = {"", "int a", "int a,int c", "int a,int c,int d", "int a,int c,int d,int e"};
+        for (int n = 0; n < given.length; n++) {
+            b.fine("class C{int m(" + given[n] + "){}}main{}");
+            b.due("parameters", b.x.method(0, 0, 1), n);
+            b.due("slots", b.x.method(0, 0, 2), n + 1);
+        }
+        b.fault("class C{int m(int a,int c,int d,int e,int f){}}main{}", 2, 1);
+        b.fault("class C{int m(int a,int c,int d,int e,bool f,int g){}}main{}", 2, 1);
+        b.fault("class C{int m(,){}}main{}", 2, 1);
+        b.fault("class C{int m(int a,){}}main{}", 2, 1);
+        b.fault("class C{int m(int a int c){}}main{}", 2, 1);
+    }
+
+    /** "CLASSES, then main BLOCK", "MEMBERS": none, one and many. */
+    private static void members(Bench b) {
+        b.fine("main{}");
+        b.fine("class C{}main{}");
+        b.fine("class C{int a;}class D{int m(){}}main{}");
+        b.fault("class C{}", 2, 1);
+        b.fault("class C{}\n\n", 2, 3);
+        b.fault("main{}main{}", 2, 1);
+        b.fault("main{}class C{}", 2, 1);
+        b.fault("class C{;}main{}", 2, 1);
+        b.fault("class C{int a;;}main{}", 2, 1);
+        b.fault("class C{int a,c;}main{}", 2, 1);
+        b.fault("class C{class D{}}main{}", 2, 1);
+        b.fault("main", 2, 1);
+        b.fault("main;", 2, 1);
+        b.fault("main(){}", 2, 1);
+    }
+
+    /** "(a LOCAL ..; no STATEMENT of if or while itself)". */
+    private static void localsAlone(Bench b) {
+        String[] heads = {"if(true)", "while(true)", "if(true)1;else ", "if(true)if(true)", "if(true){}else if(true)"};
+        for (String head : heads) {
+            b.fault("class C{}main{" + head + "\nint a=1;}", 2, 2);
+            b.fault("class C{}main{" + head + "\nbool a=true;}", 2, 2);
+            b.fault("class C{}main{" + head + "\nfar C a=null;}", 2, 2);
+            b.fault("class C{}main{" + head + "\nint[] a=null;}", 2, 2);
+            b.fault("class C{}main{" + head + "C\na=null;}", 2, 2);
+            b.fine("class C{}main{" + head + "{int a=1;bool c=true;far C d=null;C e=null;int[] f=null;}}");
+        }
+        b.fine("class C{}main{if(true)1;int a=1;}");
+        b.fault("main{if(true)else 1;}", 2, 1);
+        b.fault("main{if(true)}", 2, 1);
+        b.fault("main{while(true)}", 2, 1);
+    }
+
+    /** "(a LOCAL, behind it in reach up to the end of its BLOCK, not in its own E)". */
+    private static void reach(Bench b) {
+        b.fault("main{\na;\nint a=1;}", 5, 2);
+        b.fault("main{int a=\na;}", 5, 2);
+        b.fault("main{int a=1+(2*\na);}", 5, 2);
+        b.fine("main{int a=1;a;}");
+        b.fine("main{{int a=1;{a;}a;}}");
+        b.fault("main{{int a=1;}\na;}", 5, 2);
+        b.fault("main{if(true){int a=1;}else\na;}", 5, 2);
+        b.fault("main{while(true){int a=1;}\na;}", 5, 2);
+        b.fault("class C{int m(int a){}int n(){return\na;}}main{}", 5, 2);
+        b.fault("class C{int m(){int a=1;}}main{\na;}", 5, 2);
+        b.fine("main{try{}catch(e){e;}}");
+        b.fault("main{try{\ne;}catch(e){}}", 5, 2);
+        b.fault("main{try{}catch(e){}\ne;}", 5, 2);
+        // the same NAME again, once it is out of reach
+        b.fine("main{{int a=1;}{bool a=true;}int a=2;}");
+        b.fine("class C{int m(int a){}int n(int a){int c=a;}}main{int a=1;}");
+        b.fault("main{int a=1;{\nbool a=true;}}", 4, 2);
+        b.fine("main{try{int e=1;}catch(e){}try{}catch(e){}int e=1;}");
+        b.fault("main{try{}catch(e){try{}catch(\ne){}}}", 4, 2);
+    }
+
+    /** "== != (once); < <= > >= (once)". */
+    private static void onceOnly(Bench b) {
+        String[] alike = {"==", "!="};
+        String[] order = {"<", "<=", ">", ">="};
+        for (String s : alike) {
+            for (String z : alike) {
+                b.fault("main{1" + s + "2\n" + z + "3;}", 2, 2);
+                b.fine("main{(1" + s + "2)" + z + "true;}");
+                b.fine("main{true" + z + "(1" + s + "2);}");
+                b.fine("main{1" + s + "2&&3" + z + "4||5" + s + "6;}");
+            }
+        }
+        for (String s : order) {
+            for (String z : order) {
+                b.fault("main{1" + s + "2\n" + z + "3;}", 2, 2);
+                b.fine("main{1" + s + "2==3" + z + "4;}");
+                b.fault("main{1" + s + "2==3" + z + "4\n" + s + "5;}", 2, 2);
+                b.fault("main{1" + s + "2==3" + z + "4\n!=true;}", 2, 2);
+            }
+        }
+        b.fine("main{1+2+3-4*5*6/7%8;true&&true&&true;true||true||true;}");
+    }
+
+    /** "that is a NAME or ends with . NAME or [ E ]: 2 at the =, if not". */
+    private static void aheadOfSet(Bench b) {
+        String[] none = {"1", "true", "null", "this", "here", "self", "twin", "(a)", "(a.b)", "(a[0])", "a()", "a.m()", "a.length", "new C",
+            "new int[3]", "-a", "!a.b", "go a", "get a[0]", "pin a", "a+a", "a*a.b", "a<a[0]", "a==a", "a&&a.b", "a||a"};
+        for (String s : none) {
+            b.fault("class C{int m(){" + s + "\n=1;}}main{}", 2, 2);
+        }
+        String head = "class C{C b;int v;int[] r;C m(){return this;}int n(){C a=this;int[] q=r;";
+        for (String s : new String[] {"v", "this.v", "a.v", "a.b.v", "(a).v", "m().v", "a.m().b.v", "new C.v", "q[0]", "r[0]", "a.r[0]",
+            "(q)[1]", "m().r[v]", "new int[3][2]", "q[q[0]]"}) {
+            b.fine(head + s + "=1;}}main{}");
+            b.fault(head + s + "=1\n=2;}}main{}", 2, 2);
+        }
+    }
+
+    /** "3 a STATEMENT .. within 20 of these that are open (at its first token; BLOCKs of methods and main, of try and catch ..)". */
+    private static void openStatements(Bench b) {
+        // n BLOCKs are open, main's the first of them
+        for (int n = 1; n <= 20; n++) {
+            b.fine("main" + times("{", n) + times("}", n));
+        }
+        b.fault("main" + times("{", 20) + "\n{" + times("}", 21), 3, 2);
+        b.fault("class C{int m()" + times("{", 20) + "\n{" + times("}", 21) + "}main{}", 3, 2);
+        b.fine("class C{int m()" + times("{", 20) + times("}", 20) + "}main" + times("{", 20) + times("}", 20));
+        // as the twentieth a STATEMENT may stand, its E not
+        String[] heads = {"\nprint\n1;", "\nreturn\n1;", "\nraise\n1;", "\nput\n1,2;", "\nif(\ntrue){}", "\nwhile(\ntrue){}", "\nint a=\n1;"};
+        for (String s : heads) {
+            b.fine("main" + times("{", 18) + s + times("}", 18));
+            b.fault("main" + times("{", 19) + s + times("}", 19), 3, 3);
+            b.fault("main" + times("{", 20) + s + times("}", 20), 3, 2);
+        }
+        // what stands ahead of = is an E itself
+        b.fine("main{int a=1;" + times("{", 17) + "a=1;" + times("}", 18));
+        b.fault("main{int a=1;" + times("{", 18) + "\na=\n1;" + times("}", 19), 3, 2);
+        b.fine("main{int a=1;" + times("{", 17) + "a;" + times("}", 18));
+        b.fault("main{int a=1;" + times("{", 18) + "\na;" + times("}", 19), 3, 2);
+        // try, and its BLOCKs within it
+        b.fine("main" + times("{", 18) + "try{}catch(e){}" + times("}", 18));
+        b.fault("main" + times("{", 19) + "\ntry\n{}catch(e){}" + times("}", 19), 3, 3);
+        b.fault("main" + times("{", 20) + "\ntry\n{}catch(e){}" + times("}", 20), 3, 2);
+        b.fine("main" + times("{", 17) + "try{{}}catch(e){{}}" + times("}", 17));
+        b.fault("main" + times("{", 18) + "try{}catch(e){\n{}}" + times("}", 18), 3, 2);
+        b.fault("main" + times("{", 18) + "try{\n{}}catch(e){}" + times("}", 18), 3, 2);
+        // STATEMENTS of if, else and while are within it
+        for (String s : new String[] {"if(true)", "while(true)", "if(true){}else "}) {
+            b.fine("main{" + times(s, 18) + "{}}");
+            b.fault("main{" + times(s, 18) + "{\n{}}}", 3, 2);
+            b.fault("main{" + times(s, 19) + "\n{}}", 3, 1);
+        }
+        // one that has ended is not open
+        b.fine("main{" + times("{}", 100) + times("{", 19) + times("{}", 0) + times("}", 19) + times("1;", 100) + "}");
+    }
+
+    /** "E (also in ( ), ARGUMENTS, [ ])". */
+    private static void openExpressions(Bench b) {
+        // BLOCK, STATEMENT, E: seventeen more
+        b.fine("main{" + times("(", 17) + "1" + times(")", 17) + ";}");
+        b.fault("main{" + times("(", 18) + "\n1" + times(")", 18) + ";}", 3, 2);
+        b.fine("main{int[] a=null;" + times("a[", 17) + "1" + times("]", 17) + ";}");
+        b.fault("main{int[] a=null;" + times("a[", 18) + "\n1" + times("]", 18) + ";}", 3, 2);
+        b.fine("main{" + times("new int[", 17) + "1" + times("].length", 17) + ";}");
+        b.fault("main{" + times("new int[", 18) + "\n1" + times("].length", 18) + ";}", 3, 2);
+        String head = "class C{C c;far C f;int m(int k){";
+        b.fine(head + times("m(", 17) + "1" + times(")", 17) + ";}}main{}");
+        b.fault(head + times("m(", 18) + "\n1" + times(")", 18) + ";}}main{}", 3, 2);
+        b.fine(head + times("c.m(", 17) + "1" + times(")", 17) + ";}}main{}");
+        b.fault(head + times("c.m(", 18) + "\n1" + times(")", 18) + ";}}main{}", 3, 2);
+        b.fine(head + times("f.m(", 17) + "1" + times(")", 17) + ";}}main{}");
+        b.fault(head + times("f.m(", 18) + "\n1" + times(")", 18) + ";}}main{}", 3, 2);
+        // also on the right, and as a second one; signs open nothing
+        b.fine("main{1+" + times("(2*", 17) + "1" + times(")", 17) + ";}");
+        b.fault("main{1+" + times("(2*", 17) + "(\n1" + times(")", 18) + ";}", 3, 2);
+        b.fine("main{" + times("(1)+", 40) + "1;}");
+        b.fine("main{" + times("1+", 590) + "1;}");
+        b.fine("main{int[] a=null;" + times("a[", 16) + "1" + times("]", 16) + "=1;}");
+        b.fault("main{int[] a=null;a[0]=" + times("(", 18) + "\n1" + times(")", 18) + ";}", 3, 2);
+        b.fine("main{int[] a=null;a[0]=" + times("(", 17) + "1" + times(")", 17) + ";}");
+    }
+
+    /** "or unit (- ! go get pin, at that sign)", "a unit and the E that begins with it are two". */
+    private static void openUnits(Bench b) {
+        b.fine("main{" + times("-", 17) + "1;}");
+        b.fault("main{" + times("-", 17) + "\n-\n1;}", 3, 2);
+        b.fine("main{" + times("!", 17) + "true;}");
+        b.fault("main{" + times("!", 17) + "\n!\ntrue;}", 3, 2);
+        b.fine("main{" + times("get ", 17) + "1;}");
+        b.fault("main{" + times("get ", 17) + "\nget\n1;}", 3, 2);
+        b.fine("main{" + times("!", 16) + "go 1;}");
+        b.fault("main{" + times("!", 17) + "\ngo\n1;}", 3, 2);
+        b.fine("class C{}main{" + times("(", 16) + "pin new C" + times(")", 16) + ";}");
+        b.fault("class C{}main{" + times("(", 17) + "\npin\nnew C" + times(")", 17) + ";}", 3, 2);
+        // a unit and an E take turns
+        b.fine("main{" + times("-(", 8) + "-1" + times(")", 8) + ";}");
+        b.fine("main{-" + times("(-", 8) + "1" + times(")", 8) + ";}");
+        b.fine("main{" + times("-(", 8) + "-1" + times(")", 8) + "+" + times("-(", 8) + "-1" + times(")", 8) + ";}");
+        b.fault("main{" + times("-(", 8) + "-\n(-1)" + times(")", 8) + ";}", 3, 2);
+        b.fault("main{" + times("-(", 8) + "-(\n-1)" + times(")", 8) + ";}", 3, 2);
+        b.fault("main{" + times("-(", 9) + "\n1" + times(")", 9) + ";}", 3, 2);
+        // behind a sign nothing of the left side is open any more
+        b.fine("main{" + times("-", 17) + "1+" + times("-", 17) + "1;}");
+    }
+
+    /** "FAULTS of the text: the first one, token by token, of one token the least". */
+    private static void firstOfTheText(Bench b) {
+        b.fault("main{;\n#}", 2, 1);
+        b.fault("main{#\n;}", 1, 1);
+        b.fault("main{" + times("(", 18) + "1;\n#", 3, 1);
+        b.fault("main{;" + times("\n(", 18) + "1", 2, 1);
+        // no token, and it could not stand there; it can't stand there, and would be too deep
+        b.fault("main{}\n#", 1, 2);
+        b.fault("main" + times("{", 20) + "\n#", 1, 2);
+        b.fault("main" + times("{", 20) + "\n)", 2, 2);
+        b.fault("main" + times("{", 19) + "print\n;", 2, 2);
+        b.fault("main{" + times("-", 17) + "\n;", 2, 2);
+        b.fault("main{" + times("-", 18) + "\n;", 3, 1);
+        // the text's come ahead of the rules'
+        b.fault("class C{}class C{D d;}main{x=true+this;\n1 2;}", 2, 2);
+        b.fault("class C{}class C{D d;}main{x=true+this;}\n}", 2, 2);
+        b.fault("class C{}class C{D d;}main{x=true+this;}\n\u00ff", 1, 2);
+        b.fault("class C{}class C{D d;}main{x=true+this;}\n" + "abcdefghijklm", 1, 2);
+    }
+
+    /** "If there is none, those of the rules, that of the token that comes first". */
+    private static void firstOfTheRules(Bench b) {
+        String[] faults = {"4int a=1;", "5x;", "6print true;", "7c.m();", "8this;"};
+        for (String one : faults) {
+            for (String two : faults) {
+                b.fault("class C{int m(int k){}}main{C c=null;int a=0;\n" + one.substring(1) + "\n{" + two.substring(1) + "}}",
+                    one.charAt(0) - '0', 2);
+            }
+        }
+        // found later, but it stands ahead
+        b.fault("main{bool a\n=\n1+true;}", 6, 2);
+        b.fault("main{int[] a=null;a\n[\ntrue+1==1];}", 6, 2);
+        b.fault("main{int[] a=null;a\n[\ntrue+1];}", 6, 3);
+        b.fault("class C{int m(int k){}}main{new C.\nm(\ntrue,\nx);}", 7, 2);
+        b.fault("class C{int m(int k){}}main{new C.m(\ntrue\n&&x);}", 6, 2);
+        b.fault("main{\nif(\nx)1;}", 5, 3);
+        b.fault("main{\nif(\n1+\nx)1;}", 6, 2);
+        b.fault("main{int a\n=true;int a=1;}", 6, 2);
+        b.fault("main{int a=1;int\na\n=true;}", 4, 2);
+        b.fault("class C{int m(){\nx;}\nint m(){}}main{}", 5, 2);
+        b.fault("class C{int m(){}\nint m(){\nx;}}main{}", 4, 2);
+    }
+
+    /** "of one token the least": what comes to one token by two rules. */
+    private static void sameToken(Bench b) {
+        // the first token of an ARGUMENT that does not fit has a fault of its own
+        b.fault("class C{int m(bool k){}}main{new C.m(\nx+1);}", 5, 2);
+        b.fault("class C{int m(bool k){}}main{new C.m(\nthis+1);}", 6, 2);
+        b.fault("class C{int m(bool k){return m(\nn()\n);}int n(int k){}}main{}", 6, 2);
+        b.fault("class C{bool n(int k){}int m(bool k){return m(\nn());}}main{}", 7, 2);
+        b.fault("class C{int m(bool k){}}main{new C.m(\n-true);}", 6, 2);
+        b.fault("class C{int m(bool k){}}main{new C.m(\nnew D);}", 5, 2);
+    }
+
+    private static String many(int n, String head, String tail) {
+        StringBuilder all = new StringBuilder();
+        for (int i = 0; i < n; i++) {
+            all.append(head).append('n').append(i).append(tail);
+        }
+        return all.toString();
+    }
+
+    private static void limit(Bench b, String fine, String tooMuch) {
+        b.fine(fine);
+        b.fault(tooMuch, 9, 0);
+        b.due("none came", b.x.count(1), 0);
+        // any other fault goes ahead of 9
+        b.fault(tooMuch.substring(0, tooMuch.length() - 1) + "\nx;}", 5, 2);
+        b.fault(tooMuch + "\n}", 2, 2);
+    }
+
+    /** "9 (line 0, if there is no other): .. more than 12 classes, 12 fields of one". */
+    private static void limitsOfClasses(Bench b) {
+        b.fine(many(11, "class ", "{}") + "main{}");
+        limit(b, many(12, "class ", "{}") + "main{}", many(13, "class ", "{}") + "main{}");
+        b.due("none", b.x.program(0, 0), -1);
+        b.fine(many(12, "class ", "{}") + "main{}");
+        b.due("classes", b.x.program(0, 0), 12);
+        b.fine("class C{" + many(11, "int ", ";") + "}main{}");
+        limit(b, "class C{" + many(12, "int ", ";") + "}main{}", "class C{" + many(13, "int ", ";") + "}main{}");
+        // of one: others have theirs, and methods are none
+        b.fine("class C{" + many(12, "int ", ";") + "int m(){}int o(){}}class D{" + many(12, "bool ", ";") + "}main{}");
+        limit(b, "class A{int a;}class C{" + many(12, "C ", ";") + "}main{}", "class A{int a;}class C{" + many(13, "C ", ";") + "}main{}");
+        b.fault("class C{" + many(13, "int ", ";") + "}class D{}main{}", 9, 0);
+    }
+
+    /** "40 methods (main is one), 30 LOCALS and parameters of a method (each NAME that is told)". */
+    private static void limitsOfMethods(Bench b) {
+        b.fine("class C{" + many(38, "int ", "(){}") + "}main{}");
+        limit(b, "class C{" + many(39, "int ", "(){}") + "}main{}", "class C{" + many(40, "int ", "(){}") + "}main{}");
+        b.fine("class C{" + many(20, "int ", "(){}") + "}class D{" + many(19, "int ", "(){}") + "}main{}");
+        b.due("methods", b.x.program(0, 1), 40);
+        b.fault("class C{" + many(20, "int ", "(){}") + "}class D{" + many(20, "int ", "(){}") + "}main{}", 9, 0);
+        // of main
+        b.fine("main{" + many(29, "int ", "=1;") + "}");
+        limit(b, "main{" + many(30, "int ", "=1;") + "}", "main{" + many(31, "int ", "=1;") + "}");
+        // of a method: this is no LOCAL, parameters count
+        String head = "class C{int m(int a,int c,int d,int e){";
+        b.fine(head + many(26, "int ", "=1;") + "}}main{" + many(30, "int ", "=1;") + "}");
+        b.due("slots", b.x.method(0, 0, 2), 31);
+        b.due("slots", b.x.method(0, 1, 2), 30);
+        b.fault(head + many(27, "int ", "=1;") + "}}main{}", 9, 0);
+        b.fine("class C{int m(){" + many(30, "int ", "=1;") + "}}main{}");
+        b.fault("class C{int m(){" + many(31, "int ", "=1;") + "}int n(){}}main{}", 9, 0);
+        // each NAME that is told: the same one in another BLOCK, that of a catch
+        b.fine("main{" + times("{int a=1;}", 30) + "}");
+        b.fault("main{" + times("{int a=1;}", 31) + "}", 9, 0);
+        b.fine("main{" + times("try{}catch(e){}", 30) + "}");
+        b.fault("main{" + times("try{}catch(e){}", 31) + "}", 9, 0);
+        b.fault("main{" + times("try{}catch(e){}", 15) + times("{int a=1;}", 16) + "}", 9, 0);
+    }
+
+    /** "1,200 instructions". */
+    private static void limitsOfCode(Bench b) {
+        // two each, three with a sign, and two at the end
+        b.fine("main{-1;" + times("1;", 597) + "}");
+        b.due("instructions", b.x.program(0, 2), 1199);
+        limit(b, "main{" + times("1;", 599) + "}", "main{-1;" + times("1;", 598) + "}");
+        b.fault("main{" + times("1;", 600) + "}", 9, 0);
+        // over all methods together
+        b.fine("class C{int m(){" + times("1;", 299) + "}}main{" + times("1;", 299) + "}");
+        b.due("instructions", b.x.program(0, 2), 1200);
+        b.due("main's", b.x.method(0, 1, 3), 600);
+        b.fault("class C{int m(){" + times("1;", 299) + "}}main{-1;" + times("1;", 298) + "}", 9, 0);
+        b.fault("class C{int m(){" + times("1;", 600) + "}}main{}", 9, 0);
+        b.fault("main{" + times("1;", 1990) + "}", 9, 0);
+    }
+
+    /** "a ninth program". */
+    private static void limitOfPrograms(Bench b) {
+        b.fresh();
+        for (int p = 0; p < 8; p++) {
+            b.due("a fault makes none", b.read("main{x;}"), -21);
+            b.due("programs", b.x.count(1), p);
+            b.due("read", b.read("main{return " + p + ";}"), p);
+        }
+        b.due("a ninth", b.read("main{return 8;}"), -9);
+        b.due("the tape is empty then", b.x.count(0), 0);
+        b.due("a ninth with another fault", b.read("\nmain{x;}"), -(5 + 32));
+        b.due("a ninth with another fault", b.read("\n\nmain{#}"), -(1 + 48));
+        b.due("programs", b.x.count(1), 8);
+        for (int p = 0; p < 8; p++) {
+            b.due("as they were", b.x.instruction(p, 0, 1), p);
+        }
+        b.due("none", b.x.program(8, 2), -1);
+    }
+}
