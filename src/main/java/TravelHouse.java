@@ -776,9 +776,6 @@ public final class TravelHouse {
                 }
                 good = cutOne();
             }
-            if (good) {
-                skipBlanks();
-            }
             addToken(END, 0);
         }
 

@@ -435,6 +435,17 @@ public final class EdgeCallTest {
         for (int i : new int[] {LEAST, -1, 2, 3, MOST}) {
             b.due("frame " + i, b.x.value(0, 0, i, 1), 0);
         }
+        // of frames that are gone nothing is told
+        b.begin("class C{int m(int k){if(k==0)return 3;return m(k-1);}}main{new C.m(5);while(true)1;}");
+        b.step(0, 500);
+        b.due("one frame", b.x.traveller(0, 0, 5), 1);
+        for (int i = 1; i < 7; i++) {
+            for (int k = 0; k < 3; k++) {
+                b.due("frame " + i, b.x.value(0, 0, i, k), 0);
+            }
+            b.due("frame " + i, b.x.frame(0, 0, i, 1), -1);
+        }
+        inM(b);
         for (int t : new int[] {LEAST, -1, 1, 30, MOST}) {
             b.due("of " + t, b.x.value(t, 0, 0, 1), 0);
         }

@@ -303,6 +303,16 @@ public final class EdgeRunTest {
         }
         b.answers("class C{int a;bool w;C n;int[] r;far C f;}main{int i=0;while(i<60){C c=new C;"
             + "if(c.a!=0||c.w||c.n!=null||c.r!=null||c.f!=null)return 1;c.a=5;c.w=true;c.n=c;c.r=new int[2];i=i+1;}return 2;}", 2);
+        // where another traveller was, one begins as anywhere
+        b.begin("class C{}main{int i=5;bool t=true;C c=new C;int[] r=new int[3];far C f=pin c;while(true){go 1;}}");
+        b.step(0, 50);
+        b.settle(0, 1);
+        b.due("it is away", b.x.host(0, 1), 0);
+        b.due("start", b.start(0, 0), 1);
+        int[] begin = {0, 0, -1, -1, -1};
+        for (int k = 0; k < begin.length; k++) {
+            b.due("slot " + k, b.x.value(1, 0, 0, k), begin[k]);
+        }
         // a LOCAL in a loop has its E each time, not its beginning
         b.answers("main{int i=0;int s=0;while(i<3){int a=i;s=s*10+a;a=9;i=i+1;}return s;}", 12);
     }

@@ -13,6 +13,8 @@ public final class EdgeTextTest {
         words(b);
         numbers(b);
         comments(b);
+        manyTokens(b);
+        alikeNames(b);
         parameters(b);
         members(b);
         localsAlone(b);
@@ -25,7 +27,9 @@ public final class EdgeTextTest {
         firstOfTheText(b);
         firstOfTheRules(b);
         sameToken(b);
+        thisInMain(b);
         limitsOfClasses(b);
+        fullClasses(b);
         limitsOfMethods(b);
         limitsOfCode(b);
         limitOfPrograms(b);
@@ -177,6 +181,86 @@ public final class EdgeTextTest {
         b.fault("//main{}", 2, 1);
         b.fine("main{int a=1;//int a=1;\n}");
         b.fault("main{int a=1//;\n}", 2, 2);
+    }
+
+    /** As many tokens, letters of NAMES, classes, members and parameters as 4,000 bytes can tell. */
+    private static void manyTokens(Bench b) {
+        b.fault(times("(", 4000), 2, 1);
+        b.fault(times("}", 3999) + "\n", 2, 1);
+        b.fault("main{" + times("1;", 1997), 2, 1);
+        b.fault("main{" + times("1;", 1997) + "}", 9, 0);
+        StringBuilder names = new StringBuilder();
+        for (int i = 0; i < 307; i++) {
+            names.append("abcdefghi").append(100 + i).append(' ');
+        }
+        b.fault(names.toString(), 2, 1);
+        StringBuilder shorts = new StringBuilder();
+        for (int i = 0; i < 1333; i++) {
+            shorts.append((char) ('a' + i % 26)).append((char) (i / 26 % 2 == 0 ? 'A' + i / 52 : 'a' + i / 52)).append(' ');
+        }
+        b.fault(shorts.toString(), 2, 1);
+        b.fault(times("class a{}", 443) + "main{}", 4, 1);
+        b.fault("class a{" + times("a b;", 996) + "}main{}", 4, 1);
+        b.fault("class a{" + times("a b(){}", 569) + "}main{}", 4, 1);
+        b.fault("class a{" + times("a b(a c){}", 398) + "}main{}", 4, 1);
+        b.fault("class a{int m(){" + times("a b=c;", 660) + "}}main{}", 5, 1);
+    }
+
+    /** NAMES are one if all their letters are: some that are easily mixed up. */
+    private static void alikeNames(Bench b) {
+        String[][] pairs = {{"Aa", "BB"}, {"AaAa", "BBBB"}, {"AaBB", "BBAa"}, {"ddngzk", "zlhhebmam"}, {"pcqulq", "voidaelks"}, {"ab", "ba"},
+            {"a", "aa"}, {"a1", "a_1"}, {"abcdefghijkl", "abcdefghijkL"}};
+        for (String[] p : pairs) {
+            b.fault("main{int " + p[0] + "=1;\n" + p[1] + ";}", 5, 2);
+            b.fault("main{int " + p[1] + "=1;\n" + p[0] + ";}", 5, 2);
+            b.fine("main{int " + p[0] + "=1;int " + p[1] + "=2;" + p[0] + "=" + p[1] + ";}");
+            b.fault("class " + p[0] + "{}main{\n" + p[1] + " a=null;}", 5, 2);
+            b.fault("class C{int " + p[0] + "(){return " + p[0] + "();}int n(){return\n" + p[1] + "();}}main{}", 5, 2);
+        }
+    }
+
+    /** "8 this in main, at it": it is of no known TYPE, which fits everything, also what stands ahead of it. */
+    private static void thisInMain(Bench b) {
+        for (String s : new String[] {"int a\n=\nthis;", "bool a\n=\nthis;", "\nprint\nthis;", "\nreturn\nthis;", "\nraise\nthis;", "\nput\nthis,1;",
+            "\nif(\nthis)1;", "\nwhile(\nthis)1;", "\n-\nthis;", "\n!\nthis;", "\ngo\nthis;", "\nget\nthis;", "new C.\nm(\nthis);", "\nnew\nint[this];",
+            "D d\n=\nthis;", "1\n+\nthis;", "true\n&&\nthis;", "null\n==\nthis;", "1\n<\nthis;", "far D f=\npin\nthis;", "int a=1;a\n=\nthis.b.c(1).d;",
+            "int[] r=null;r\n[\nthis]=1;"}) {
+            b.fault("class D{}class C{int m(int k){}}main{" + s + "}", 8, 3);
+        }
+        b.fine("class C{C m(){return this;}}main{}");
+    }
+
+    /** All twelve classes have their twelve fields, each of its own TYPE. */
+    private static void fullClasses(Bench b) {
+        StringBuilder text = new StringBuilder();
+        for (int c = 0; c < 12; c++) {
+            text.append("class K").append(c).append('{');
+            for (int f = 0; f < 12; f++) {
+                String type = f == c ? "int" : f == (c + 1) % 12 ? "bool" : f == (c + 2) % 12 ? "far K0" : "K" + (11 - c);
+                text.append(type).append(" f").append(f).append(';');
+            }
+            text.append('}');
+        }
+        text.append("main{");
+        for (int c = 0; c < 12; c++) {
+            text.append("K").append(c).append(" a").append(c).append("=new K").append(c).append(";a").append(c).append(".f").append(c);
+            text.append("=").append(100 + c).append(";a").append(c).append(".f").append((c + 1) % 12).append("=true;");
+        }
+        b.begin(text + "while(true)1;}");
+        b.step(0, 200);
+        b.due("classes", b.x.program(0, 0), 12);
+        b.due("OBJECTS", b.x.traveller(0, 0, 10), 12);
+        for (int c = 0; c < 12; c++) {
+            b.due("class", b.x.cell(0, 0, c, -1), c);
+            for (int f = 0; f < 12; f++) {
+                b.due("class " + c + " field " + f, b.x.cell(0, 0, c, f), f == c ? 100 + c : f == (c + 1) % 12 ? 1 : -1);
+            }
+            b.due("no more", b.x.cell(0, 0, c, 12), 0);
+        }
+        byte[] bytes = b.packed(0, 0);
+        b.feed(bytes);
+        b.due("they come", b.come(1), 1);
+        b.due("the last field", b.x.cell(1, 1, 11, 11), 111);
     }
 
     /** "(a METHOD, 4 parameters at most)": a fifth one can't stand there. */

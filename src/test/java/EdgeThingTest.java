@@ -489,7 +489,7 @@ public final class EdgeThingTest {
 
     /** Promise 25: "Field k of the OBJECT that is THING n of host h, if that is a number; 0 else." */
     private static void fields(Bench b) {
-        b.begin("class C{int a;bool w;C n;int[] r;far C f;int z;}main{C c=new C;c.a=-7;c.w=true;c.n=c;c.r=new int[2];c.f=pin c;c.z=8;pin c;while(true)1;}");
+        b.begin("class C{int a;bool w;C n;int[] r;far C f;int z;}main{C c=new C;c.a=-7;c.w=true;c.n=c;c.r=new int[2];c.r[0]=9;c.r[1]=9;c.f=pin c;c.z=8;pin c;while(true)1;}");
         b.step(0, 100);
         int[] want = {-7, 1, 0, 0, 0, 8};
         for (int k = -1; k <= 6; k++) {
