@@ -10,6 +10,7 @@ public final class CodeTest {
         reaches(b);
         handlers(b);
         ways(b);
+        heights(b);
         sums(b);
         b.end();
     }
@@ -144,6 +145,65 @@ public final class CodeTest {
         b.due("heights", b.column(0, 4), "0 -1 -1 -1 0 1");
         b.fine("main{bool a=true==(2<3&&true);}");
         b.due("heights", b.column(0, 4), "0 1 2 3 2 1 2 1 2 1 0 1");
+    }
+
+    /** What each operation takes from the stack and puts there; of CALL and FAR beside their ARGUMENTS. */
+    private static final int[] TAKES = {0, 0, 0, 1, 1, 2, 2, 3, 1, 0, 1, 1, 1, 2, 1, 1, 0, 1, 1, 1, 2, 1, 1, 1, 1, 0, 0, 0, 1, 2};
+    private static final int[] PUTS = {1, 1, 1, 0, 1, 0, 1, 0, 1, 1, 1, 1, 1, 1, 1, 1, 0, 0, 0, 0, 0, 1, 0, 1, 1, 1, 1, 1, 0, 1};
+
+    /** Each operation with others' numbers below it: the ways are followed here, by the document's words. */
+    private static void heights(Bench b) {
+        String head = "class C{int v;bool w;C n;far C f;int[] r;int i(int a,int c,int d){return a;}int t(int a,int c,bool d){return a;}"
+            + "int o(int a,int c,C d){return a;}int q(int a,int c,far C d){return a;}int k(int a,int c,int[] d){return a;}"
+            + "bool z(){return w;}int all(C c,far C g,bool b,int y){";
+        String[] bodies = {"i(1,2,-y);i(1,2,get y);i(1,2,r[y]);i(1,2,r.length);i(1,2,here);i(1,2,self);i(1,2,twin);i(1,2,y*y);i(1,2,c.v);i(1,2,c.i(y,y,y));",
+            "t(1,2,!b);t(1,2,go y);t(1,2,y==y);t(1,2,y<y);t(1,2,c==n);t(1,2,g!=null);t(1,2,null==r);t(1,2,b&&w);t(1,2,b||w);t(1,2,b&&w||b&&z());",
+            "t(1,2,b||w&&b||w);t(1,2,(b||w)==(w||b&&w));t(1,2,true==(false||2<3));o(1,2,null);o(1,2,new C);q(1,2,pin c);q(1,2,null);k(1,2,new int[y]);",
+            "k(1,2,r);i(1,2,g.i(y,y,y));i(g.i(1,2,3),4,g.t(5,6,g.z()));r[y]=r[r[y]];c.n.v=c.n.n.v;n=c;v=y;f=g;",
+            "try{i(1,2,3/0);}catch(e){i(1,2,e);try{raise e;}catch(h){put h,get e;}}while(b&&w){if(b)return 1+(2+y);else raise y;}return y;",
+            "if(b||w){return 1;}while(!b){while(w)y=y+1;if(y>3)y=2;else y=3;}put 1,(2+(3+get 4));print 1+(2+y);"};
+        for (String body : bodies) {
+            b.fresh();
+            b.due("read of " + body, b.read(head + body + "}}main{C c=new C;return c.all(c,pin c,true||false,1)+c.i(1,2,3);}"), 0);
+            for (int m = 0; m < b.x.program(0, 1); m++) {
+                if (b.x.method(0, m, 1) != 3) {
+                    methodHeights(b, m);
+                }
+            }
+        }
+    }
+
+    private static void methodHeights(Bench b, int m) {
+        int first = b.x.method(0, m, 3);
+        int end = m + 1 < b.x.program(0, 1) ? b.x.method(0, m + 1, 3) : b.x.program(0, 2);
+        int[] high = new int[end - first];
+        java.util.Arrays.fill(high, -1);
+        java.util.ArrayDeque<int[]> open = new java.util.ArrayDeque<>();
+        open.add(new int[] {first, 0});
+        while (!open.isEmpty()) {
+            int[] at = open.poll();
+            int k = at[0] - first;
+            if (high[k] >= 0) {
+                b.due("one height at " + at[0], at[1], high[k]);
+                continue;
+            }
+            high[k] = at[1];
+            int what = b.x.instruction(0, at[0], 0);
+            int more = what == 11 || what == 12 ? b.x.instruction(0, at[0], 2) : 0;
+            int then = at[1] - TAKES[what] - more + PUTS[what];
+            if (what == 16 || what == 17) {
+                open.add(new int[] {b.x.instruction(0, at[0], 1), then});
+            }
+            if (what != 16 && what != 18 && what != 22) {
+                open.add(new int[] {at[0] + 1, then});
+            }
+            if (b.x.instruction(0, at[0], 3) >= 0) {
+                open.add(new int[] {b.x.instruction(0, at[0], 3), 1});
+            }
+        }
+        for (int k = 0; k < high.length; k++) {
+            b.due("height at " + (first + k), b.x.instruction(0, first + k, 4), high[k]);
+        }
     }
 
     private static void sums(Bench b) {

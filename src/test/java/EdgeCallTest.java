@@ -347,7 +347,15 @@ public final class EdgeCallTest {
         whole(b, "WAITING", 1, 6, steps + 4, 1, 1, 2, 1, 0, -1, 0, 0, 1);
         b.settle(0, 1);
         b.step(1, 50);
+        b.x.pass(1, 3);
+        b.x.pass(3, 1);
+        b.x.pass(1, 3);
+        b.x.pass(3, 1);
+        whole(b, "GONE with CALLS", 1, 3, 0, 2, 0, 0, 0, 0, 3, 0, 0, 0);
+        whole(b, "HERE WHOLE with CALLS", 3, 5, ANY, 2, 1, 2, 1, 0, 1, 0, 0, 1);
         b.settle(1, 3);
+        b.due("start where it was", b.start(0, 1), 1);
+        b.due("without CALLS", b.x.traveller(1, 1, 3), 0);
         whole(b, "at 3", 3, 0, ANY, 2, 1, 2, 1, 0, -1, 0, 0, 1);
         b.step(3, 50);
         whole(b, "ENDED", 3, 7, ANY, 2, 1, 2, ANY, 2, -1, 0, 0, ANY);

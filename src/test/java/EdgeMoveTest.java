@@ -32,6 +32,9 @@ public final class EdgeMoveTest {
         partsWithoutRoom(b);
         lineOfOne(b);
         thirtyGivenUp(b);
+        thirtyOfTwo(b);
+        recordsThatGo(b);
+        thirtyAtOneHost(b);
         givenUpOnce(b);
         powers(b);
         nothingAtFirst(b);
@@ -991,6 +994,129 @@ public final class EdgeMoveTest {
         b.due("OFFER 1", b.x.pass(0, 1), 0);
         said(b, 1, 0, 0, "1 0 1 0");
         b.due("forgotten", b.x.traveller(0, 1, 0), 4);
+    }
+
+    /** The row has moves of all travellers, each with its own. */
+    private static void thirtyOfTwo(Bench b) {
+        b.begin("main{while(true)go 1;}");
+        b.start(0, 0);
+        for (int move = 1; move <= 16; move++) {
+            b.step(0, 9);
+            for (int t = 0; t < 2; t++) {
+                b.x.giveUp(t, 0);
+            }
+            if (move == 1) {
+                // their first OFFERS stay on the line
+                b.x.trouble(0, 1, 2);
+                b.x.trouble(0, 1, 2);
+            } else {
+                b.x.trouble(0, 1, 2);
+                b.x.trouble(0, 1, 2);
+                b.x.trouble(0, 1, 0);
+                b.x.trouble(0, 1, 0);
+            }
+            for (int t = 0; t < 2; t++) {
+                b.due("GIVE UP", b.x.message(0, 1, 0, 0), 7);
+                b.x.pass(0, 1);
+                int given = 2 * move - 1 + t;
+                b.due("given up", b.x.host(1, 6), Math.min(30, given));
+                if (given >= 30) {
+                    // OFFERS of move 1: of traveller 0, then of traveller 1
+                    for (int k = 0; k < 2; k++) {
+                        int at = k + 1 - t;
+                        b.due("OFFER", b.x.message(0, 1, at, 0), 0);
+                        b.due("of", b.x.message(0, 1, at, 1), k);
+                    }
+                }
+            }
+            b.passAll(1, 0);
+            if (move == 15) {
+                // thirty: both are known
+                b.x.trouble(0, 1, 1);
+                b.x.pass(0, 1);
+                b.x.trouble(0, 1, 1);
+                b.x.pass(0, 1);
+                said(b, 1, 0, 0, "2 0 1 3");
+                said(b, 1, 0, 1, "2 1 1 3");
+                b.passAll(1, 0);
+            }
+        }
+        // thirty-two: both are forgotten; move 2 of each is known, as OFFERS of it would be
+        b.x.pass(0, 1);
+        b.x.pass(0, 1);
+        said(b, 1, 0, 0, "1 0 1 0");
+        said(b, 1, 0, 1, "1 1 1 0");
+        // of traveller 1 alone: that of 0 with the same number is not meant
+        b.begin(ON);
+        b.start(0, 0);
+        b.step(0, 20);
+        b.x.giveUp(1, 0);
+        b.x.trouble(0, 1, 2);
+        b.x.trouble(0, 1, 2);
+        b.due("GIVE UP", b.x.pass(0, 1), 7);
+        b.x.pass(0, 1);
+        b.x.pass(0, 1);
+        said(b, 1, 0, 0, "2 1 1 3");
+        said(b, 1, 0, 1, "1 0 1 0");
+        said(b, 1, 0, 2, "2 1 1 3");
+    }
+
+    /** "its record is no more": those behind it come forward, in their order, as they are. */
+    private static void recordsThatGo(Bench b) {
+        for (int away = 0; away < 4; away++) {
+            b.begin("main{print self+50;if(self==" + away + ")go 1;while(true)1;}");
+            for (int t = 1; t < 4; t++) {
+                b.start(0, 0);
+            }
+            b.step(0, 20);
+            b.settle(0, 1);
+            b.due("three", b.x.host(0, 1), 3);
+            b.due("it is away", b.x.traveller(away, 0, 0), -1);
+            for (int i = 0; i < 4; i++) {
+                int t = i < away ? i : i + 1;
+                b.due("in their order", b.x.at(0, i), i < 3 ? t : -1);
+                if (i < 3) {
+                    b.due("as they are", b.x.line(t, 0, 0), t + 50);
+                    b.due("ACTING", b.x.traveller(t, 0, 0), 0);
+                }
+            }
+            b.due("there", b.x.line(away, 1, 0), away + 50);
+            b.due("the last one then", b.start(0, 0), 4);
+            b.due("the last one", b.x.at(0, 3), 4);
+            b.due("with nothing", b.x.traveller(4, 0, 4), 0);
+            b.x.power(0, 0);
+            b.x.power(0, 1);
+            for (int i = 0; i < 3; i++) {
+                b.due("put by in their order", b.x.at(0, i), i < away ? i : i + 1);
+            }
+        }
+    }
+
+    /** All thirty at one host, most of them ENDED; the last and the first one go and come back. */
+    private static void thirtyAtOneHost(Bench b) {
+        b.begin("main{if(self==29){go 1;go 0;}return self;}");
+        for (int t = 1; t < 30; t++) {
+            b.step(0, 9);
+            b.start(0, 0);
+        }
+        b.step(0, 9);
+        b.due("thirty", b.x.host(0, 1), 30);
+        b.due("the last one", b.x.at(0, 29), 29);
+        b.due("no more", b.x.at(0, 30), -1);
+        b.settle(0, 1);
+        b.due("it is away", b.x.host(0, 1), 29);
+        b.step(1, 9);
+        b.settle(0, 1);
+        b.due("it is back", b.x.host(0, 1), 30);
+        b.due("the last one", b.x.at(0, 29), 29);
+        b.x.power(0, 0);
+        b.x.power(0, 1);
+        b.due("all are put by", b.x.host(0, 1), 30);
+        b.x.power(0, 2);
+        b.step(0, 9);
+        for (int t = 0; t < 30; t++) {
+            b.due("end", b.x.traveller(t, 0, 6), t);
+        }
     }
 
     /** "each once". */

@@ -26,6 +26,7 @@ public final class EdgePackTest {
         methods(b);
         places(b);
         placesBeneath(b);
+        eachStep(b);
         nullsOnStacks(b);
         onItsWay(b);
         comes(b);
@@ -708,6 +709,33 @@ public final class EdgePackTest {
             }
         }
         b.due("CALLs", behind, 9);
+    }
+
+    private static final String RUN = "class C{int v;bool w;C n;far C f;int[] r;int m(int k,bool t){v=v+k;w=!t;n=this;r=new int[k];if(t||w&&t)return 1+(v+n.v);"
+        + "try{return 2+o(k==v,n==null,k);}catch(e){return r.length+e;}}int o(bool a,bool c,int k){f=null;if(a!=c)raise k;return 3-r[k-1]*(k%2);}}"
+        + "main{C c=new C;far C g=pin c;c.f=g;int i=1+c.m(2,true);i=i+c.m(3,c.w||false)*2;bool z=(g!=c.f)==(i<3);c.r[1]=c.n.r[0]+-i;"
+        + "print 1+(2+get i);put i,c.o(z,!z,1);while(true)1;}";
+
+    /** Wherever it is, what is PACKED can be UNPACKED, and is then the same. */
+    private static void eachStep(Bench b) {
+        maker = x -> x.begin(RUN);
+        for (int n = 0; n < 150; n++) {
+            b.begin(RUN);
+            b.step(0, n);
+            byte[] bytes = b.packed(0, 0);
+            b.feed(bytes);
+            b.due("it comes, behind " + n + " steps", b.come(3), 1);
+            byte[] again = b.packed(1, 3);
+            b.due("as long", again.length, bytes.length);
+            boolean same = true;
+            for (int k = 0; k < bytes.length - 8 && k < again.length; k++) {
+                // behind 84, 82, whether it is on its way, the program and its sum stands its number
+                same = same && (again[k] == bytes[k] || again[k] == 2 && bytes[k] == 0 && k <= 8);
+            }
+            b.due("the same bytes behind " + n + " steps", same, true);
+        }
+        b.due("it is in its loop then", b.x.traveller(0, 0, 5), 1);
+        b.due("and printed", b.x.traveller(0, 0, 4), 1);
     }
 
     /** "of a null without a TYPE anything but 0". */

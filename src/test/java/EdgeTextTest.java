@@ -28,6 +28,7 @@ public final class EdgeTextTest {
         firstOfTheRules(b);
         sameToken(b);
         thisInMain(b);
+        fieldOfAThing(b);
         limitsOfClasses(b);
         fullClasses(b);
         limitsOfMethods(b);
@@ -230,6 +231,15 @@ public final class EdgeTextTest {
         b.fine("class C{C m(){return this;}}main{}");
     }
 
+    /** "a field of a THING: 5", and then it is of no known TYPE. */
+    private static void fieldOfAThing(Bench b) {
+        for (String s : new String[] {"bool t\n=f.\nv;", "C c\n=f.\nv;", "\nprint f.\nw;", "\n-f.\nw;", "\nif(f.\nv)1;", "\nreturn f.\nn;", "1\n+f.\nw;",
+            "int i=1;i\n=f.\nw;", "new C.\nm(f.\nw);", "int j=0;j\n=f.\nn.v.q(1);"}) {
+            b.fault("class C{int v;bool w;C n;int m(int k){}}main{far C f=null;" + s + "}", 5, 3);
+        }
+        b.fine("class C{int v;bool w;C n;int m(int k){}}main{far C f=null;f.m(1);}");
+    }
+
     /** All twelve classes have their twelve fields, each of its own TYPE. */
     private static void fullClasses(Bench b) {
         StringBuilder text = new StringBuilder();
@@ -365,6 +375,13 @@ public final class EdgeTextTest {
             "new int[3]", "-a", "!a.b", "go a", "get a[0]", "pin a", "a+a", "a*a.b", "a<a[0]", "a==a", "a&&a.b", "a||a"};
         for (String s : none) {
             b.fault("class C{int m(){" + s + "\n=1;}}main{}", 2, 2);
+        }
+        // what stood ahead of an earlier =, or within, is not meant
+        for (String s : none) {
+            b.fault("class C{C b;int v;C m(){}int n(int a,C c){a=1;c.b=c;a;" + s + "\n=1;}}main{}", 2, 2);
+        }
+        for (String s : new String[] {"new int[a]", "new int[r[a]]", "n(a)", "this.n(r[0])", "(a)", "(r[a])", "-a", "new C", "r.length", "1+a", "r[a]+a"}) {
+            b.fault("class C{int n(int a){int[] r=null;" + s + "\n=1;}}main{}", 2, 2);
         }
         String head = "class C{C b;int v;int[] r;C m(){return this;}int n(){C a=this;int[] q=r;";
         for (String s : new String[] {"v", "this.v", "a.v", "a.b.v", "(a).v", "m().v", "a.m().b.v", "new C.v", "q[0]", "r[0]", "a.r[0]",

@@ -19,6 +19,7 @@ public final class EdgeThingTest {
         waitingTicks(b);
         keptWithTheHost(b);
         fields(b);
+        fieldsOfADownHost(b);
         b.end();
     }
 
@@ -503,6 +504,24 @@ public final class EdgeThingTest {
         }
         for (int h : new int[] {-1, 1, 4, 5, Integer.MAX_VALUE, Integer.MIN_VALUE}) {
             b.due("host " + h, b.x.thing(h, 1, 0), 0);
+        }
+    }
+
+    /** "(of a DOWN host: of what was put by)": with the program that the THING is of. */
+    private static void fieldsOfADownHost(Bench b) {
+        b.fresh();
+        b.read("main{}");
+        b.read("class A{}class C{C n;int v;bool w;}main{C c=new C;c.v=5;c.w=true;c.n=c;pin c;while(true)1;}");
+        b.x.give(0, 1);
+        b.start(1, 0);
+        b.step(0, 20);
+        b.x.power(0, 0);
+        for (int down = 0; down < 3; down++) {
+            b.due("a reference", b.x.thing(0, 0, 0), 0);
+            b.due("a number", b.x.thing(0, 0, 1), 5);
+            b.due("a bool", b.x.thing(0, 0, 2), 1);
+            b.due("none", b.x.thing(0, 0, 3), 0);
+            b.x.power(0, down == 0 ? 1 : 2);
         }
     }
 }
