@@ -22,6 +22,7 @@ public final class EdgePackTest {
         cells(b);
         forty(b);
         fortyMetInSlots(b);
+        metBefore(b);
         frames(b);
         methods(b);
         places(b);
@@ -556,6 +557,22 @@ public final class EdgePackTest {
                     fault(b, all.packed(), 4, atEnd, what);
                 }
             }
+        }
+    }
+
+    /** What was met in earlier bytes is not met in these. */
+    private static void metBefore(Bench b) {
+        use(b, "class C{C n;}main{C c=null;C d=null;while(true)1;}");
+        int[] head = {0, 0, b.x.program(0, 3), 0, 0, 0, 0, 0, 1, 0, 4};
+        byte[] three = new Bytes().nums(head).nums(1, 2, 3, 0, 0, 2, 0, 0, 3, 0, 0, 0).packed();
+        int first = new Bytes().nums(head).size();
+        for (int n = 2; n <= 4; n++) {
+            comes(b, 4, new Bytes().nums(head).nums(1, 2, 3, 0, 0, 2, 0, 0, 3, 0, 0, 0).packed(), "three");
+            fault(b, new Bytes().nums(head).nums(n, 0, n, 0, 0, 0).packed(), 4, first, "the first as " + n);
+            comes(b, 4, three, "three");
+            fault(b, new Bytes().nums(head).nums(1, n + 1, 3, 0, 0, 0).packed(), 4, first + 1, "the second as " + (n + 1));
+            comes(b, 4, three, "three");
+            fault(b, new Bytes().nums(head).nums(1, 1, 4, 0, 0, n + 1).packed(), 4, first + 5, "in a field " + (n + 1));
         }
     }
 

@@ -6,6 +6,7 @@ public final class EdgeRunTest {
         linesKept(b);
         stepsCounted(b);
         wraps(b);
+        trueIsOne(b);
         nulls(b);
         indexes(b);
         lengths(b);
@@ -158,6 +159,38 @@ public final class EdgeRunTest {
                 b.answers("main{if(" + two[k][0] + signs[i] + two[k][1] + ")return 1;return 2;}", want[i][k] ? 1 : 2);
             }
             b.answers("main{if(" + least + signs[i] + most + ")return 1;return 2;}", want[i][0] ? 1 : 2);
+        }
+    }
+
+    /** "true (1), false (0)": whatever makes a bool makes one of these two. */
+    private static void trueIsOne(Bench b) {
+        String[] yes = {"true", "1<2", "1<=1", "2>1", "2>=2", "3==3", "3!=4", "!f", "t&&t", "t||f", "f||t", "c==c", "c!=null", "null==d", "g==g", "g!=h", "r!=null",
+            "t==t", "t!=f", "go here", "c.yes()", "g.yes()", "c.same(t)", "g.same(t)", "g.same(1<2)"};
+        String[] no = {"false", "2<1", "2<=1", "1>1", "1>=2", "3==4", "3!=3", "!t", "t&&f", "f&&t", "f||f", "c!=c", "c==null", "null!=d", "g!=g", "g==h", "r==null",
+            "t==f", "t!=t", "!go here", "!c.yes()", "!g.yes()", "c.same(f)", "g.same(f)", "g.same(2<1)"};
+        String head = "class C{bool w;bool yes(){return true;}bool same(bool x){w=x;return x;}}main{bool t=true;bool f=false;C c=new C;C d=null;far C g=pin c;"
+            + "far C h=null;int[] r=new int[1];";
+        for (int i = 0; i < yes.length; i++) {
+            b.begin(head + "bool y=" + yes[i] + ";bool n=" + no[i] + ";c.w=y;while(true)1;}");
+            b.step(0, 100);
+            b.due(yes[i], b.x.value(0, 0, 0, 7), 1);
+            b.due(no[i], b.x.value(0, 0, 0, 8), 0);
+            b.due("in a field", b.x.cell(0, 0, 0, 0), 1);
+            b.due("it can be told apart", b.x.traveller(0, 0, 0), 0);
+        }
+        b.due("of the THING", b.x.thing(0, 0, 0), 0);
+        // from afar, and behind GO
+        b.begin(head + "bool y=go 1;bool z=g.same(1<2);bool n=g.same(2<1);bool m=go 0;while(true)1;}");
+        b.step(0, 50);
+        b.settle(0, 1);
+        for (int i = 0; i < 3; i++) {
+            b.step(1, 50);
+            b.settle(0, 1);
+        }
+        b.step(0, 50);
+        int[] want = {1, 1, 0, 1};
+        for (int k = 0; k < want.length; k++) {
+            b.due("slot " + k, b.x.value(0, 0, 0, 7 + k), want[k]);
         }
     }
 
