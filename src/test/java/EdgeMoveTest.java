@@ -1145,16 +1145,19 @@ public final class EdgeMoveTest {
     private static void powers(Bench b) {
         b.fresh();
         for (int h : new int[] {0, 4}) {
-            boolean[][] want = {{true, false, false, false, false}, {false, false, false, false, true}};
-            int[] hows = {0, -1, 2, 3, 1};
-            for (int i = 0; i < hows.length; i++) {
-                b.due("UP, how " + hows[i], b.x.power(h, hows[i]), want[0][i] || hows[i] == 1);
+            for (int how : new int[] {Integer.MIN_VALUE, -1, 2, 3, Integer.MAX_VALUE}) {
+                b.due("UP, how " + how, b.x.power(h, how), false);
+            }
+            b.due("not kept", b.x.host(h, 4), 0);
+            b.due("UP, how 0", b.x.power(h, 0), true);
+            b.due("UP", b.x.host(h, 0), 1);
+            b.due("UP, how 1", b.x.power(h, 1), true);
+            b.due("DOWN", b.x.host(h, 0), 0);
+            for (int how : new int[] {Integer.MIN_VALUE, -1, 0, 1, 3, Integer.MAX_VALUE}) {
+                b.due("DOWN, how " + how, b.x.power(h, how), false);
             }
             b.due("DOWN", b.x.host(h, 0), 0);
-            int[] downHows = {0, 1, -1, 3, 2};
-            for (int i = 0; i < downHows.length; i++) {
-                b.due("DOWN, how " + downHows[i], b.x.power(h, downHows[i]), want[1][i]);
-            }
+            b.due("DOWN, how 2", b.x.power(h, 2), true);
             b.due("UP", b.x.host(h, 0), 1);
             b.due("kept once", b.x.host(h, 4), 1);
         }

@@ -106,7 +106,7 @@ public final class EdgeTextTest {
             // in a comment any byte but 10 may stand
             byteDue(b, "main{//" + c + "}\n}", v == 10 ? 2 : 0, 3);
             // behind a number
-            fault = isBlank(v) || isDigit(v) ? 0 : isLetter(v) || v == '_' ? 1 : sign && v != ';' ? 2 : v == ';' ? 2 : 1;
+            fault = isBlank(v) || isDigit(v) ? 0 : isLetter(v) || v == '_' ? 1 : sign ? 2 : 1;
             byteDue(b, "main{print 1" + c + ";}", fault, 1);
         }
     }
@@ -426,7 +426,7 @@ public final class EdgeTextTest {
             b.fault("main{" + times(s, 19) + "\n{}}", 3, 1);
         }
         // one that has ended is not open
-        b.fine("main{" + times("{}", 100) + times("{", 19) + times("{}", 0) + times("}", 19) + times("1;", 100) + "}");
+        b.fine("main{" + times("{}", 100) + times("{", 19) + times("}", 19) + times("1;", 100) + "}");
     }
 
     /** "E (also in ( ), ARGUMENTS, [ ])". */

@@ -20,6 +20,7 @@ public final class EdgeThingTest {
         keptWithTheHost(b);
         fields(b);
         fieldsOfADownHost(b);
+        numbersUsedAgain(b);
         b.end();
     }
 
@@ -523,5 +524,26 @@ public final class EdgeThingTest {
             b.due("none", b.x.thing(0, 0, 3), 0);
             b.x.power(0, down == 0 ? 1 : 2);
         }
+    }
+
+    /** A THING that was not put by is gone with the host's fall; the next one has its number, and nothing else of it. */
+    private static void numbersUsedAgain(Bench b) {
+        b.begin("class C{int v;C n;int[] r;int sum(){if(n==null)return v;return v+10*n.sum();}}main{int i=0;if(self==0){while(i<20)i=i+1;}C c=new C;"
+            + "c.v=5+self*2;if(self==0){c.n=new C;c.n.v=8;c.r=new int[30];}far C f=pin c;print f.sum();while(true)1;}");
+        b.step(0, 400);
+        b.due("the first", b.x.thing(0, 0, 0), 5);
+        b.due("line", b.x.line(0, 0, 0), 85);
+        b.x.power(0, 1);
+        b.x.power(0, 2);
+        b.due("none", b.x.host(0, 3), 0);
+        b.due("none", b.x.thing(0, 0, 0), 0);
+        b.due("start", b.start(0, 0), 1);
+        b.step(0, 40);
+        b.due("THINGS", b.x.host(0, 3), 1);
+        b.due("the next", b.x.thing(0, 0, 0), 7);
+        b.due("alone", b.x.line(1, 0, 0), 7);
+        b.x.power(0, 0);
+        b.x.power(0, 1);
+        b.due("put by", b.x.thing(0, 0, 0), 7);
     }
 }
