@@ -1020,13 +1020,16 @@ public final class EdgeMoveTest {
                 b.x.pass(0, 1);
                 int given = 2 * move - 1 + t;
                 b.due("given up", b.x.host(1, 6), Math.min(30, given));
-                if (given >= 30) {
-                    // OFFERS of move 1: of traveller 0, then of traveller 1
-                    for (int k = 0; k < 2; k++) {
-                        int at = k + 1 - t;
-                        b.due("OFFER", b.x.message(0, 1, at, 0), 0);
-                        b.due("of", b.x.message(0, 1, at, 1), k);
-                    }
+                if (given == 31) {
+                    // on the line: GIVE UP of 1, the OFFERS of move 1 of 0 and of 1; that of 1 is still known
+                    b.x.trouble(0, 1, 2);
+                    b.x.trouble(0, 1, 2);
+                    b.due("of 1", b.x.message(0, 1, 0, 1), 1);
+                    b.x.trouble(0, 1, 1);
+                    b.x.pass(0, 1);
+                    said(b, 1, 0, 1, "2 1 1 3");
+                    b.x.trouble(1, 0, 2);
+                    b.x.trouble(1, 0, 0);
                 }
             }
             b.passAll(1, 0);

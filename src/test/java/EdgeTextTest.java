@@ -34,6 +34,7 @@ public final class EdgeTextTest {
         limitsOfMethods(b);
         limitsOfCode(b);
         limitOfPrograms(b);
+        textsInTurn(b);
         b.end();
     }
 
@@ -623,5 +624,26 @@ public final class EdgeTextTest {
             b.due("as they were", b.x.instruction(p, 0, 1), p);
         }
         b.due("none", b.x.program(8, 2), -1);
+    }
+
+    /** Each text stands by itself: what an earlier one told of classes, fields, methods and LOCALS is not in reach of a later one. */
+    private static void textsInTurn(Bench b) {
+        b.fresh();
+        b.due("read", b.read("class C{int a;int c;C d;int m(int k,int l){int z=1;return z;}}class E{int e;}main{int a=1;int y=2;}"), 0);
+        b.due("read", b.read("class D{bool z;int y;D m(){return this;}}main{D d=new D;d.y=5;d.z=true;d.m();}"), 1);
+        b.due("code", b.code(1), "LOAD; ANSWER; NULL 1; ANSWER; NEW; STORE; LOAD; NUMBER 5; SETFIELD 1; LOAD; NUMBER 1; SETFIELD; LOAD; CALL; DROP; "
+            + "NUMBER; ANSWER");
+        b.due("classes", b.x.program(1, 0), 1);
+        b.due("slots", b.x.method(1, 1, 2), 1);
+        b.due("no class C", b.read("main{C c=null;}"), -(5 + 16));
+        b.due("no LOCAL", b.read("main{a;}"), -(5 + 16));
+        b.due("no field", b.read("class C{int m(){return a;}}main{}"), -(5 + 16));
+        b.due("no method", b.read("class C{int a(){return m(1,2);}}main{}"), -(5 + 16));
+        b.x.give(0, 1);
+        b.start(1, 0);
+        b.step(0, 8);
+        b.due("fields", b.x.cell(0, 0, 0, -2), 2);
+        b.due("y", b.x.cell(0, 0, 0, 1), 5);
+        b.due("z", b.x.cell(0, 0, 0, 0), 1);
     }
 }
