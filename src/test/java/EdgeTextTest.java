@@ -27,6 +27,10 @@ public final class EdgeTextTest {
         firstOfTheText(b);
         firstOfTheRules(b);
         sameToken(b);
+        ofNoKnownType(b);
+        ofItsTypeAllTheSame(b);
+        argumentsInAll(b);
+        callsOfThings(b);
         thisInMain(b);
         fieldOfAThing(b);
         limitsOfClasses(b);
@@ -97,22 +101,22 @@ public final class EdgeTextTest {
             int line = v == 10 ? 2 : 1;
             // behind all
             int fault = isBlank(v) ? 0 : sign || isLetter(v) || isDigit(v) ? 2 : 1;
-            byteDue(b, "main{}" + c, fault, 1);
+            textDue(b, "main{}" + c, fault, 1);
             // behind the first letter of a NAME
             fault = isBlank(v) || isLetter(v) || isDigit(v) || v == '_' ? 0 : sign ? 2 : 1;
-            byteDue(b, "main{int a" + c + "=1;}", fault, 1);
+            textDue(b, "main{int a" + c + "=1;}", fault, 1);
             // as that letter
             fault = isLetter(v) ? 0 : isBlank(v) || sign || isDigit(v) ? 2 : 1;
-            byteDue(b, "main{int " + c + "=1;}", fault, line);
+            textDue(b, "main{int " + c + "=1;}", fault, line);
             // in a comment any byte but 10 may stand
-            byteDue(b, "main{//" + c + "}\n}", v == 10 ? 2 : 0, 3);
+            textDue(b, "main{//" + c + "}\n}", v == 10 ? 2 : 0, 3);
             // behind a number
             fault = isBlank(v) || isDigit(v) ? 0 : isLetter(v) || v == '_' ? 1 : sign ? 2 : 1;
-            byteDue(b, "main{print 1" + c + ";}", fault, 1);
+            textDue(b, "main{print 1" + c + ";}", fault, 1);
         }
     }
 
-    private static void byteDue(Bench b, String text, int fault, int line) {
+    private static void textDue(Bench b, String text, int fault, int line) {
         if (fault == 0) {
             b.fine(text);
         } else {
@@ -218,6 +222,99 @@ public final class EdgeTextTest {
             b.fine("main{int " + p[0] + "=1;int " + p[1] + "=2;" + p[0] + "=" + p[1] + ";}");
             b.fault("class " + p[0] + "{}main{\n" + p[1] + " a=null;}", 5, 2);
             b.fault("class C{int " + p[0] + "(){return " + p[0] + "();}int n(){return\n" + p[1] + "();}}main{}", 5, 2);
+        }
+    }
+
+    private static final String HEAD = "class C{int v;bool w;C n;int[] r;far C f;int m(int k){}C o(C c){}bool p(){}}"
+        + "main{C c=null;far C f=null;int i=0;bool t=true;int[] r=null;";
+
+    /** "(Of no known TYPE, which fits everything, are: ..": what they are given to stands ahead of them, and has no fault. */
+    private static void ofNoKnownType(Bench b) {
+        String[] of5 = {"x", "x()", "x(1)", "c.x", "c.x()", "c.m", "c.v()", "f.x()", "f.v", "new D", "x.y", "x.y.z()", "x.length", "c.x.v", "c.x().y", "new D.v", "(x)",
+            "f.v.w", "pin x", "pin c.x", "x.length.y"};
+        String[] of6 = {"i.v", "i.m(1)", "t.v", "r.v", "r.m()", "null.v", "null.m()", "i.length", "c.length", "f.length", "t.length", "null.length", "i.v.w", "i.v.w()",
+            "i.length.x", "pin 1", "pin r", "pin f", "pin null", "pin t", "pin i.v"};
+        String[] wants = {"int a\n=\n", "bool a\n=\n", "C a\n=\n", "far C a\n=\n", "int[] a\n=\n", "i\n=\n", "\nprint\n", "\nreturn\n", "\nraise\n", "1\n+\n",
+            "t\n&&\n", "1\n<\n", "c\n==\n", "null\n!=\n", "\nput 1,\n", "c.n\n=\n", "r[0]\n=\n"};
+        for (String want : wants) {
+            for (String x : of5) {
+                b.fault(HEAD + want + x + ";}", 5, 3);
+            }
+            for (String x : of6) {
+                b.fault(HEAD + want + x + ";}", 6, 3);
+            }
+        }
+        for (String x : of5) {
+            b.fault(HEAD + "\nif(\n" + x + ")1;}", 5, 3);
+            b.fault(HEAD + "r\n[\n" + x + "];}", 5, 3);
+            b.fault(HEAD + "\nnew int[\n" + x + "];}", 5, 3);
+            b.fault(HEAD + "c.\nm(\n" + x + ");}", 5, 3);
+            b.fault(HEAD + "c.\no(\n" + x + ");}", 5, 3);
+        }
+        // what is told to be of a TYPE with 5: a field, a parameter, what a method answers
+        String late = "class C{int m(){@}\nD x;D y(){}int z(D d){}}main{}";
+        for (String s : new String[] {"int a=x;", "bool a=x;", "x=1;", "x=true;", "x=null;", "x=this;", "print x;", "if(x)1;", "x.q=1;", "x.q();", "int a=y();", "y().z;",
+            "z(1);", "z(true);", "z(null);", "z(this);", "z(x);", "x==1;", "x==true;", "x==this;", "x==null;", "x==x;", "-x;", "!x;", "x.length;", "x[0];", "pin x;", "return x;"}) {
+            b.fault(late.replace("@", s), 5, 2);
+        }
+    }
+
+    /** "All else has its TYPE, whatever is wrong in it": the fault is at what it is given to, which stands ahead. */
+    private static void ofItsTypeAllTheSame(Bench b) {
+        String[] ints = {"x[0]", "c[0]", "r[t]", "r[x]", "-x", "-t", "get x", "get t", "x+1", "1-t", "x*y", "t/x", "1%null", "c.m()", "c.m(1,2)", "c.m(t)", "c.m(x)",
+            "f.m()", "f.m(t)"};
+        String[] bools = {"!x", "!i", "go x", "go t", "x||t", "i||t", "x&&y", "x<1", "t>=1", "x==y", "i==t", "null==null", "x!=null", "f.p(1)", "c.p(x)"};
+        String[] others = {"new int[x]", "new int[t]", "c.o()", "c.o(1)", "c.o(x)", "f.o(c)", "f.o()"};
+        for (String e : ints) {
+            b.fault(HEAD + "bool a\n=\n" + e + ";}", 6, 2);
+            b.fault(HEAD + "C a\n=\n" + e + ";}", 6, 2);
+            b.fault(HEAD + "\nif(\n" + e + ")1;}", 6, 2);
+        }
+        for (String e : bools) {
+            b.fault(HEAD + "int a\n=\n" + e + ";}", 6, 2);
+            b.fault(HEAD + "\nprint\n" + e + ";}", 6, 2);
+        }
+        for (String e : others) {
+            b.fault(HEAD + "int a\n=\n" + e + ";}", 6, 2);
+            b.fault(HEAD + "bool a\n=\n" + e + ";}", 6, 2);
+            b.fault(HEAD + "far C a\n=\n" + e + ";}", 6, 2);
+        }
+        b.fault(HEAD + "int[] a\n=new int[\nx];}", 5, 3);
+        b.fault(HEAD + "C a\n=c.o(\nx);}", 5, 3);
+    }
+
+    /** "7 not as many ARGUMENTS as parameters, at the NAME". */
+    private static void argumentsInAll(Bench b) {
+        String[] told = {"", "int a", "int a,int c", "int a,int c,int d", "int a,int c,int d,int e"};
+        String[] given = {"", "1", "1,2", "1,2,3", "1,2,3,4", "1,2,3,4,5", "1,2,3,4,5,6"};
+        for (int n = 0; n < told.length; n++) {
+            for (int k = 0; k < given.length; k++) {
+                String[] calls = {"class C{int m(" + told[n] + "){}int q(){return\nm\n(" + given[k] + ");}}main{}",
+                    "class C{int m(" + told[n] + "){}}main{C c=null;c.\nm\n(" + given[k] + ");}",
+                    "class C{int m(" + told[n] + "){}}main{far C c=null;c.\nm\n(" + given[k] + ");}"};
+                for (String call : calls) {
+                    textDue(b, call, n == k ? 0 : 7, 2);
+                }
+            }
+        }
+    }
+
+    /** "what is called of a THING: a parameter or what it answers is neither int nor bool, at the NAME". */
+    private static void callsOfThings(Bench b) {
+        String[] types = {"int", "bool", "int[]", "C", "far C"};
+        String[] values = {"1", "true", "null", "null", "null"};
+        for (int i = 0; i < types.length; i++) {
+            textDue(b, "class C{" + types[i] + " m(){}}main{far C c=null;c.\nm();}", i < 2 ? 0 : 7, 2);
+            for (int spot = 0; spot < 4; spot++) {
+                StringBuilder told = new StringBuilder();
+                StringBuilder given = new StringBuilder();
+                for (int k = 0; k < 4; k++) {
+                    told.append(k == 0 ? "" : ",").append(k == spot ? types[i] : "int").append(" p").append(k);
+                    given.append(k == 0 ? "" : ",").append(k == spot ? values[i] : "1");
+                }
+                textDue(b, "class C{int m(" + told + "){}}main{far C c=null;c.\nm(" + given + ");}", i < 2 ? 0 : 7, 2);
+                b.fine("class C{int m(" + told + "){}}main{C c=null;c.m(" + given + ");}");
+            }
         }
     }
 
