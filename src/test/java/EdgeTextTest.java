@@ -15,6 +15,7 @@ public final class EdgeTextTest {
         comments(b);
         manyTokens(b);
         alikeNames(b);
+        signsInTheirPlaces(b);
         parameters(b);
         members(b);
         localsAlone(b);
@@ -369,6 +370,49 @@ public final class EdgeTextTest {
         b.feed(bytes);
         b.due("they come", b.come(1), 1);
         b.due("the last field", b.x.cell(1, 1, 11, 11), 111);
+    }
+
+    private static final String[] WHOLE = ("class C { int a ; bool t ; int [ ] r ; far C f ; C n ; int m ( int k , int [ ] q , far C g , bool u ) { return k ; } "
+        + "C o ( ) { this . a = 1 ; return n ; } } class D { } main { C c = new C ; int i = 0 ; int [ ] r = new int [ 3 ] ; far C f = pin c ; "
+        + "if ( i < 2 ) { i = ( 1 + 2 ) ; } else print r [ 0 ] ; while ( i == r [ r [ 1 ] ] ) i = c . m ( 1 , r , null , true ) ; put 1 , get 2 ; "
+        + "try { raise 5 ; } catch ( e ) { r [ e ] = r . length ; { } } c . o ( ) . n . a = f . b ( ) ; c . o ( ) ; return - ( i ) ; }").split(" ");
+
+    /** Each token in a line of its own, one of them another one. */
+    private static String with(int at, String instead) {
+        StringBuilder all = new StringBuilder();
+        for (int i = 0; i < WHOLE.length; i++) {
+            all.append(i == at ? instead : WHOLE[i]).append('\n');
+        }
+        return all.toString();
+    }
+
+    /** "2 it can't stand there": what ends or parts something is not to be had for another such sign. */
+    private static void signsInTheirPlaces(Bench b) {
+        String[] ends = {";", ",", "]", ")", "}"};
+        int tried = 0;
+        for (int at = 0; at < WHOLE.length; at++) {
+            String token = WHOLE[at];
+            String ahead = at == 0 ? "" : WHOLE[at - 1];
+            boolean end = java.util.Arrays.asList(ends).contains(token);
+            boolean headed = java.util.Arrays.asList("if", "while", "catch").contains(ahead);
+            boolean opens = token.equals("{") && !ahead.equals("{") && !ahead.equals(";") && !ahead.equals("}");
+            boolean ofARow = token.equals("[") && ahead.equals("int");
+            for (String other : new String[] {";", ",", "]", ")", "}", "{", "(", "[", "=", "=="}) {
+                boolean opening = java.util.Arrays.asList("{", "(", "[", "=", "==").contains(other);
+                // ARGUMENTS and parameters may end or go on; what begins or joins may stand at many places
+                boolean mayStand = token.equals(other) || token.equals(")") && other.equals(",") || token.equals(",") && other.equals(")")
+                    || end && opening || opens && other.equals("(");
+                if ((end || headed || opens || ofARow) && !mayStand) {
+                    b.fault(with(at, other), 2, at + 1);
+                    tried++;
+                }
+            }
+        }
+        b.due("many, " + tried, tried > 300, true);
+        // all as it stands: f.b() is the only fault
+        int call = java.util.Arrays.asList(WHOLE).indexOf("b");
+        b.fault(with(-1, ""), 5, call + 1);
+        b.fine(with(call, "z").replace("f\n.\nz\n(\n)", "c\n.\nm\n(\n1\n,\nr\n,\nf\n,\ntrue\n)"));
     }
 
     /** "(a METHOD, 4 parameters at most)": a fifth one can't stand there. */
