@@ -362,6 +362,38 @@ public final class EdgeCallTest {
         b.begin("main{print 4;raise -9;}");
         b.step(0, 9);
         whole(b, "FAILED", 0, 8, 5, 0, 0, 1, ANY, -9, -1, 0, 0, ANY);
+        // its program, in each STATE
+        b.fresh();
+        for (int k = 0; k < 8; k++) {
+            b.read("main{if(self==" + k + ")go 1;if(self==9)raise 1;return " + k + ";}");
+            b.x.give(0, k);
+            b.x.give(1, k);
+            b.due("start", b.start(k, 0), k);
+            b.due("its program", b.x.traveller(k, 0, 9), k);
+        }
+        b.step(0, 20);
+        for (int k = 0; k < 8; k += 7) {
+            b.due("OFFERED", b.x.traveller(k, 0, 9), k);
+        }
+        b.passAll(0, 1);
+        for (int k = 0; k < 8; k += 7) {
+            b.due("COMING", b.x.traveller(k, 1, 9), k);
+        }
+        b.passAll(1, 0);
+        b.passAll(0, 1);
+        for (int k = 0; k < 8; k += 7) {
+            b.due("HERE WHOLE", b.x.traveller(k, 1, 9), k);
+        }
+        b.passAll(1, 0);
+        for (int k = 0; k < 8; k += 7) {
+            b.due("GONE", b.x.traveller(k, 0, 9), k);
+        }
+        b.passAll(0, 1);
+        b.step(1, 20);
+        for (int k = 0; k < 8; k += 7) {
+            b.due("ENDED", b.x.traveller(k, 1, 9), k);
+            b.due("with", b.x.traveller(k, 1, 6), k);
+        }
         // parts that are here
         b.begin("main{int[] r=new int[90];go 1;}");
         b.step(0, 9);

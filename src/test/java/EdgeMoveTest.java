@@ -21,6 +21,7 @@ public final class EdgeMoveTest {
         partsThatCome(b);
         wholes(b);
         releases(b);
+        lateOnes(b);
         dones(b);
         giveUps(b);
         ticks(b);
@@ -537,6 +538,75 @@ public final class EdgeMoveTest {
         state(b, 1, 0);
     }
 
+    /** Of a t that is not here, and of an earlier move than what is HERE WHOLE: "does nothing but what is told". */
+    private static void lateOnes(Bench b) {
+        // a second NO of move 1, when it went with move 2
+        b.begin("main{go 1;go 2;while(true)1;}");
+        for (int i = 0; i < 8; i++) {
+            b.start(0, 1);
+        }
+        b.step(0, 20);
+        b.x.trouble(0, 1, 1);
+        b.passAll(0, 1);
+        b.due("NO", b.x.pass(1, 0), 2);
+        b.step(0, 20);
+        over(b, 0, 2, 2);
+        only(b, 2, 0, 6, 2);
+        state(b, 0, -1);
+        int kept = b.x.host(0, 4);
+        b.due("NO of one that is not here", b.x.pass(1, 0), 2);
+        state(b, 0, -1);
+        b.due("not kept", b.x.host(0, 4), kept);
+        b.due("nothing goes", b.x.count(3), 0);
+        // a second RELEASE of move 1, when it went on with move 2
+        b.begin("main{go 1;go 2;while(true)1;}");
+        b.step(0, 20);
+        b.x.pass(0, 1);
+        b.x.pass(1, 0);
+        b.x.pass(0, 1);
+        b.x.pass(1, 0);
+        b.x.trouble(0, 1, 1);
+        b.x.pass(0, 1);
+        b.step(1, 20);
+        over(b, 1, 2, 2);
+        only(b, 2, 1, 6, 2);
+        state(b, 1, -1);
+        kept = b.x.host(1, 4);
+        b.x.trouble(1, 0, 0);
+        b.due("RELEASE of one that is not here", b.x.pass(0, 1), 5);
+        said(b, 1, 0, 0, "6 0 1");
+        state(b, 1, -1);
+        b.due("not kept", b.x.host(1, 4), kept);
+        // a second RELEASE of move 1, when it is HERE WHOLE, or COMING, of move 3
+        offered(b, FRO);
+        b.x.pass(0, 1);
+        b.x.pass(1, 0);
+        b.x.pass(0, 1);
+        b.x.pass(1, 0);
+        b.x.trouble(0, 1, 1);
+        b.x.trouble(0, 1, 1);
+        b.x.pass(0, 1);
+        only(b, 1, 0, 6, 1);
+        b.step(1, 20);
+        over(b, 1, 0, 2);
+        only(b, 0, 1, 6, 2);
+        b.step(0, 20);
+        only(b, 0, 1, 0, 3);
+        state(b, 1, 4);
+        only(b, 0, 1, 5, 1);
+        state(b, 1, 4);
+        only(b, 1, 0, 6, 1);
+        only(b, 1, 0, 1, 3);
+        only(b, 0, 1, 3, 3);
+        state(b, 1, 5);
+        kept = b.x.host(1, 4);
+        only(b, 0, 1, 5, 1);
+        state(b, 1, 5);
+        b.due("not kept", b.x.host(1, 4), kept);
+        said(b, 1, 0, 1, "6 0 1");
+        b.due("it does not act", b.step(1, 5), 0);
+    }
+
     /** "DONE: if it is GONE: its record is no more." "(What is of another move than t's here .. does nothing ..)" */
     private static void dones(Bench b) {
         offered(b, FRO);
@@ -928,6 +998,17 @@ public final class EdgeMoveTest {
             for (int i = 0; i < Math.min(3, room); i++) {
                 b.due("k", b.x.message(0, 1, 40 - room + i, 3), i);
             }
+            // those that went are as good as ever; the others are asked for
+            for (int i = 0; i < 40 - room; i++) {
+                b.x.trouble(0, 1, 0);
+            }
+            b.passAll(0, 1);
+            state(b, 1, room >= 3 ? 5 : 4);
+            b.due("parts", b.x.traveller(0, 1, 8), room >= 3 ? 0 : room);
+            b.x.tick(1);
+            b.settle(0, 1);
+            state(b, 1, 0);
+            b.due("none was given up", b.x.host(1, 6), 0);
         }
     }
 

@@ -28,6 +28,7 @@ public final class EdgePackTest {
         places(b);
         placesBeneath(b);
         eachStep(b);
+        typesOnStacks(b);
         nullsOnStacks(b);
         onItsWay(b);
         comes(b);
@@ -753,6 +754,61 @@ public final class EdgePackTest {
         }
         b.due("it is in its loop then", b.x.traveller(0, 0, 5), 1);
         b.due("and printed", b.x.traveller(0, 0, 4), 1);
+    }
+
+    private static final String STACK = "class D{}class C{int v;bool w;C n;int[] r;far C g;int i(int e,int k){return k;}int t(bool e,int k){return k;}int c(C e,int k){return k;}"
+        + "int q(int[] e,int k){return k;}int f(far C e,int k){return k;}int in(){return 1;}bool bo(){return true;}C ob(){return this;}int[] ro(){return r;}far C th(){return g;}}"
+        + "main{C c=null;far C g=null;int i=0;bool b=false;int[] r=null;D d=null;";
+
+    /**
+     * "(Stacks .. have the KINDS and TYPES, as the code has them there ..)": at the 7777 of c.m(E, 7777), with c and E on the stack; in slots 1 was met
+     * as a C, 2 as a ROW, 3 as a D.
+     */
+    private static void onStack(Bench b, String method, String e, int... fine) {
+        use(b, STACK + "c." + method + "(" + e + ",7777);}");
+        int place = b.x.program(0, 2) - 1;
+        while (place > 0 && b.x.instruction(0, place, 1) != 7777) {
+            place--;
+        }
+        int main = b.x.program(0, 1) - 1;
+        for (int value : new int[] {-1, 0, 1, 2, 3, 5, 6, MOST}) {
+            Bytes all = new Bytes().nums(0, 0, b.x.program(0, 3), 0, 0, 0, 0, 0, 1, main, place, 1, 0, 0, 0, 2, 3, 1);
+            int at = all.size();
+            all.nums(value);
+            if (method.equals("f") && value > 0) {
+                // the number of a THING stands behind its host
+                all.nums(19);
+            }
+            all.nums(3, 0, 1, 0, 0, 0, 0, 0, 1, 0, 0, 0);
+            String what = e + " on the stack as " + value;
+            if (Arrays.stream(fine).anyMatch(x -> x == value)) {
+                comes(b, 4, all.packed(), what);
+            } else {
+                fault(b, all.packed(), 4, at, what);
+            }
+        }
+    }
+
+    private static void typesOnStacks(Bench b) {
+        for (String e : new String[] {"1", "i", "c.v", "r[0]", "r.length", "here", "self", "twin", "get 1", "-i", "i+1", "i-1", "i*1", "i/1", "i%1", "c.in()", "g.in()"}) {
+            onStack(b, "i", e, -1, 0, 1, 2, 3, 5, 6, MOST);
+        }
+        for (String e : new String[] {"true", "false", "b", "c.w", "!b", "go i", "i<1", "i<=1", "i>1", "i>=1", "i==1", "i!=1", "b==b", "b!=b", "c==c", "c!=null", "g==g",
+            "null!=g", "r==r", "b&&b", "b||b", "b&&b||b", "b||b&&b", "c.bo()", "g.bo()"}) {
+            onStack(b, "t", e, 0, 1);
+        }
+        for (String e : new String[] {"c", "c.n", "c.ob()", "new C"}) {
+            onStack(b, "c", e, 0, 1);
+        }
+        for (String e : new String[] {"r", "c.r", "c.ro()", "new int[1]"}) {
+            onStack(b, "q", e, 0, 2);
+        }
+        for (String e : new String[] {"g", "c.g", "c.th()", "pin c"}) {
+            onStack(b, "f", e, 0, 1, 2, 3, 5);
+        }
+        for (String method : new String[] {"c", "q", "f"}) {
+            onStack(b, method, "null", 0);
+        }
     }
 
     /** "of a null without a TYPE anything but 0". */

@@ -280,6 +280,26 @@ public final class EdgeTextTest {
             b.fault(HEAD + "bool a\n=\n" + e + ";}", 6, 2);
             b.fault(HEAD + "far C a\n=\n" + e + ";}", 6, 2);
         }
+        // with nothing wrong in it
+        String[] goodInts = {"1", "i", "c.v", "r[0]", "r.length", "here", "self", "twin", "get 1", "-1", "1+2", "1-2", "1*2", "1/2", "1%2", "c.m(1)", "f.m(1)", "(i)"};
+        String[] goodBools = {"true", "false", "t", "c.w", "!t", "go 1", "1<2", "1<=2", "1>2", "1>=2", "1==2", "1!=2", "t==t", "c==null", "null!=f", "t&&t", "t||t",
+            "c.p()", "f.p()", "(t)"};
+        String[] goodObjects = {"c", "c.n", "c.o(c)", "new C", "(c)"};
+        String[] goodRows = {"r", "c.r", "new int[1]"};
+        String[] goodThings = {"f", "c.f", "pin c", "pin new C"};
+        String[][] all = {goodInts, goodBools, goodObjects, goodRows, goodThings, {"null"}};
+        String[] types = {"int", "bool", "C", "int[]", "far C"};
+        for (int is = 0; is < all.length; is++) {
+            for (String e : all[is]) {
+                for (int want = 0; want < types.length; want++) {
+                    textDue(b, HEAD + types[want] + " a\n=\n" + e + ";}", is == want || is == 5 && want > 1 ? 0 : 6, 2);
+                }
+                textDue(b, HEAD + "\nprint\n" + e + ";}", is == 0 ? 0 : 6, 2);
+                textDue(b, HEAD + "\nif(\n" + e + ")1;}", is == 1 ? 0 : 6, 2);
+                textDue(b, HEAD + "\npin\n(" + e + ");}", is == 2 ? 0 : 6, 2);
+                textDue(b, HEAD + "(" + e + ")\n[0];}", is == 3 ? 0 : 6, 2);
+            }
+        }
         b.fault(HEAD + "int[] a\n=new int[\nx];}", 5, 3);
         b.fault(HEAD + "C a\n=c.o(\nx);}", 5, 3);
     }
