@@ -770,6 +770,20 @@ public final class EdgePackTest {
         while (place > 0 && b.x.instruction(0, place, 1) != 7777) {
             place--;
         }
+        onStackAt(b, place, method, e, fine);
+    }
+
+    /** In the midst of && or ||, at that instruction from the end. */
+    private static void inTheMidst(Bench b, String e, int operation) {
+        use(b, STACK + "c.t(" + e + ",7777);}");
+        int place = b.x.program(0, 2) - 1;
+        while (place > 0 && b.x.instruction(0, place, 0) != operation) {
+            place--;
+        }
+        onStackAt(b, place, "t", e, 0, 1);
+    }
+
+    private static void onStackAt(Bench b, int place, String method, String e, int... fine) {
         int main = b.x.program(0, 1) - 1;
         for (int value : new int[] {-1, 0, 1, 2, 3, 5, 6, MOST}) {
             Bytes all = new Bytes().nums(0, 0, b.x.program(0, 3), 0, 0, 0, 0, 0, 1, main, place, 1, 0, 0, 0, 2, 3, 1);
@@ -808,6 +822,10 @@ public final class EdgePackTest {
         }
         for (String method : new String[] {"c", "q", "f"}) {
             onStack(b, method, "null", 0);
+        }
+        for (String e : new String[] {"b||b", "b&&b", "b||b||b", "b&&b&&b", "i<1||b", "b&&i<1", "c.bo()||b", "b&&g.bo()"}) {
+            inTheMidst(b, e, 16);
+            inTheMidst(b, e, 17);
         }
     }
 
