@@ -324,6 +324,7 @@ public final class RandomTest {
             other.x.value(0, 1, 0, i);
         }
         b.due("it runs", other.x.traveller(0, 1, 0) >= 0, true);
+        b.due("within 512 calls", other.x.callsMade() <= House.MOST_CALLS, true);
     }
 
     /** Step by step: the stack is as high as the code says, of frames beneath without what CALL took and answers. */
