@@ -3303,11 +3303,13 @@ public final class TravelHouse {
             Program code = programs[w.program];
             w.tidy(code, spare);
             packer.write(w, code);
-            for (int k = first; k < first + PARTS_AT_ONCE; k++) {
-                int start = k * Traveller.PART_BYTES;
-                if (start < 0 || start >= packer.count) {
+            int parts = Traveller.partsOf(packer.count);
+            for (int i = 0; i < PARTS_AT_ONCE; i++) {
+                int k = first + i;
+                if (k < 0 || k >= parts) {
                     return;
                 }
+                int start = k * Traveller.PART_BYTES;
                 int length = Math.min(Traveller.PART_BYTES, packer.count - start);
                 letter[2] = w.moves;
                 letter[3] = k;

@@ -28,6 +28,7 @@ public final class EdgeMoveTest {
         keeps(b);
         firstParts(b);
         largest(b);
+        tooLarge(b);
         twentyParts(b);
         fullLine(b);
         partsWithoutRoom(b);
@@ -878,6 +879,87 @@ public final class EdgeMoveTest {
         }
         b.due("with 2,000 bytes", b.x.traveller(go - 1, 1, 0), 0);
         b.due("which is", first + go - 1, 2000);
+    }
+
+    /** One that wants to go with more than 2,000 bytes, from the tenth of the frames that m has. */
+    private static String large(String inner, String outer) {
+        return "class C{int[] r;int[] q;int[] s;int m(int n,int a,int b,int c){if(n>0)return m(n-1,a,b,c);" + inner
+            + "}int k(int a,int b,bool c){return a;}}"
+            + "main{C c=new C;c.r=new int[98];c.q=new int[98];c.s=new int[98];int i=0;int z=2147483647;"
+            + "while(i<98){c.r[i]=z;c.q[i]=-z;c.s[i]=z;i=i+1;}i=0;while(i<60){print z;i=i+1;}" + outer + "}";
+    }
+
+    /** So many steps in all, of traveller 0 at 0. */
+    private static void stepped(Bench b, int steps) {
+        for (int left = steps - b.x.traveller(0, 0, 1); left > 0; left -= 500) {
+            b.step(0, Math.min(left, 500));
+        }
+        b.due("steps", b.x.traveller(0, 0, 1), steps);
+    }
+
+    private static void staysAsItWas(Bench b) {
+        b.due("MOVES stay", b.x.traveller(0, 0, 2), 0);
+        b.due("nowhere", b.x.traveller(0, 0, 7), -1);
+        b.due("no OFFER goes", b.x.count(3), 0);
+        b.due("nor is lost", b.x.count(4), 0);
+        b.due("kept by give and start alone", b.x.host(0, 4), 2);
+    }
+
+    /** "(-4, and MOVES stay ..)" as "To TELL" says it: without a HANDLER, with one of its frame, with one of a frame below. */
+    private static void tooLarge(Bench b) {
+        String asks = "return k(5,6,go 1);";
+        String calls = "i=i+c.m(9,z,z,z);";
+        b.begin(large(asks, calls));
+        for (int i = 0; i < 14; i++) {
+            b.step(0, 500);
+        }
+        state(b, 0, 8);
+        b.due("FAILED with", b.x.traveller(0, 0, 6), -4);
+        staysAsItWas(b);
+        int steps = b.x.traveller(0, 0, 1);
+        // a step ahead of that its frames are as they are behind it, as with all that is told to no HANDLER
+        String failed = frames(b);
+        b.begin(large(asks, calls));
+        stepped(b, steps - 1);
+        state(b, 0, 0);
+        b.due("at its GO", b.x.instruction(0, b.x.frame(0, 0, 10, 1), 0), 23);
+        b.due("frames", frames(b), failed);
+        // a HANDLER of its frame
+        b.begin(large("try{" + asks + "}catch(e){while(true)e;}", calls));
+        stepped(b, steps - 1);
+        int handler = b.x.instruction(0, b.x.frame(0, 0, 10, 1), 3);
+        stepped(b, steps);
+        state(b, 0, 0);
+        b.due("frames", b.x.traveller(0, 0, 5), 11);
+        b.due("goes on there", b.x.frame(0, 0, 10, 1), handler);
+        b.due("alone on its stack", b.x.frame(0, 0, 10, 3), 1);
+        b.due("that number", b.x.value(0, 0, 10, b.x.frame(0, 0, 10, 2)), -4);
+        staysAsItWas(b);
+        // a HANDLER of main; then it is small enough, and goes
+        b.begin(large(asks, "try{" + calls + "}catch(e){c=null;go 1;}"));
+        stepped(b, steps);
+        state(b, 0, 0);
+        b.due("frames above it are gone", b.x.traveller(0, 0, 5), 1);
+        b.due("at the HANDLER", b.x.instruction(0, b.x.frame(0, 0, 0, 1), 0), 3);
+        b.due("alone on its stack", b.x.frame(0, 0, 0, 3), 1);
+        b.due("that number", b.x.value(0, 0, 0, b.x.frame(0, 0, 0, 2)), -4);
+        staysAsItWas(b);
+        b.step(0, 5);
+        state(b, 0, 1);
+        b.due("MOVES", b.x.traveller(0, 0, 2), 1);
+        said(b, 0, 1, 0, "0 0 1 " + b.x.pack(0, 0) + " 0");
+        b.due("kept", b.x.host(0, 4), 3);
+    }
+
+    /** Where the frames of traveller 0 at 0 are, and how high their stacks. */
+    private static String frames(Bench b) {
+        StringBuilder all = new StringBuilder();
+        for (int i = 0; i < b.x.traveller(0, 0, 5); i++) {
+            for (int what = 0; what < 4; what++) {
+                all.append(b.x.frame(0, 0, i, what)).append(' ');
+            }
+        }
+        return all.toString();
     }
 
     /** "PART t, move, k, and bytes 48 * k .. (48 at most)": sizes about where a part is full. */
